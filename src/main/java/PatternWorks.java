@@ -69,8 +69,8 @@ public final class PatternWorks {
     /** What stands for a $ of a template that is nothing of what it may be. */
     private static final int DEAD_DOLLAR = -100;
 
-    /** The most of a repeat without one. */
-    private static final int ENDLESS = Integer.MAX_VALUE;
+    /** The most of a repeat without one: more than three digits can tell. */
+    private static final int ENDLESS = 1000;
 
     private static final int[] DIGITS = {48, 57};
     private static final int[] SPACES = {9, 10, 12, 13, 32, 32};
@@ -105,9 +105,9 @@ public final class PatternWorks {
     private final Program[] programs = new Program[SLOTS];
     private final Subject subject = new Subject();
     private final int[] spans = new int[SPAN_LIMIT];
-    private final Threads threads = new Threads(spans);
-    private final Marks marks = new Marks(spans);
-    private final OneMind oneMind = new OneMind(spans);
+    private final Threads threads = new Threads();
+    private final Marks marks = new Marks();
+    private final OneMind oneMind = new OneMind();
     private final States states = new States();
     private final int[] latest = new int[SPAN_LIMIT];
     private final Row matches = new Row(2 * (TAPE_LIMIT + 1));
@@ -287,7 +287,10 @@ public final class PatternWorks {
             if (program != null && (slots >> slot & 1) != 0) {
                 size += program.size;
                 looked++;
-                answer |= isThere(program, whole ? WHOLE : SEARCH, 0) ? 1 << slot : 0;
+                int how = whole ? WHOLE : SEARCH;
+                int told = states.tell(program, subject, how, 0);
+                boolean isThere = told == GAVE_UP ? run(program, how, 0, 0) != NONE : told == 1;
+                answer |= isThere ? 1 << slot : 0;
             }
         }
         settle(size, looked);
@@ -340,46 +343,42 @@ public final class PatternWorks {
     /** Where the match ends, which stands in the spans then, or NONE. */
     private int run(Program program, int how, int machine, int from) {
         if (machine == BY_THREADS) {
-            return threads.find(program, subject, how, from);
+            return threads.find(program, subject, how, from, spans);
         }
         if (machine == BY_ONE_MIND && how != SEARCH && oneMind.suits(program)) {
-            return oneMind.find(program, subject, how, from);
+            return oneMind.find(program, subject, how, from, spans);
         }
         if (machine == BY_STATES && states.tell(program, subject, how, from) == 0) {
             return NONE;
         }
-        marks.begin(program, subject, how, from);
+        marks.begin(program, subject, how, from, spans);
         int reached = marks.find(from);
-        return reached == GAVE_UP ? threads.find(program, subject, how, from) : reached;
-    }
-
-    private boolean isThere(Program program, int how, int from) {
-        int told = states.tell(program, subject, how, from);
-        return told == GAVE_UP ? run(program, how, 0, from) != NONE : told == 1;
+        return reached == GAVE_UP ? threads.find(program, subject, how, from, spans) : reached;
     }
 
     private void beginHunt(Program program) {
         marksFull = false;
-        marks.begin(program, subject, SEARCH, 0);
+        marks.begin(program, subject, SEARCH, 0, spans);
     }
 
     /** Finds the next of all matches behind the one that ended at a place (NONE: the first). */
     private boolean hunt(Program program, int before) {
-        int from = Math.max(before, 0);
-        int reached = huntFrom(program, from);
-        if (reached != NONE && reached == before && spans[0] == before) {
-            reached = from < subject.length ? huntFrom(program, from + 1) : NONE;
+        int first = Math.max(before, 0);
+        int last = Math.min(first + 1, subject.length);
+        for (int from = first; from <= last; from++) {
+            int reached = marksFull ? GAVE_UP : marks.find(from);
+            if (reached == GAVE_UP) {
+                marksFull = true;
+                reached = threads.find(program, subject, SEARCH, from, spans);
+            }
+            if (reached == NONE) {
+                return false;
+            }
+            if (reached != before || spans[0] != before) {
+                return true;
+            }
         }
-        return reached != NONE;
-    }
-
-    private int huntFrom(Program program, int from) {
-        int reached = marksFull ? GAVE_UP : marks.find(from);
-        if (reached == GAVE_UP) {
-            marksFull = true;
-            reached = threads.find(program, subject, SEARCH, from);
-        }
-        return reached;
+        return false;
     }
 
     /** Counts the call if it took more steps than the document allows. */
@@ -613,8 +612,8 @@ public final class PatternWorks {
             add(low, high);
             for (int i = 0; i + 2 < ALIKE_RANGES.length; i += 3) {
                 int far = ALIKE_RANGES[i + 2];
-                addMeeting(low, high, ALIKE_RANGES[i], ALIKE_RANGES[i + 1], far);
-                addMeeting(low, high, ALIKE_RANGES[i] + far, ALIKE_RANGES[i + 1] + far, -far);
+                addMoved(Math.max(low, ALIKE_RANGES[i]), Math.min(high, ALIKE_RANGES[i + 1]), far);
+                addMoved(Math.max(low, ALIKE_RANGES[i] + far), Math.min(high, ALIKE_RANGES[i + 1] + far), -far);
             }
             for (int i = 0; i + 3 < ALIKE_FOURS.length; i += 4) {
                 boolean meets = false;
@@ -627,11 +626,9 @@ public final class PatternWorks {
             }
         }
 
-        private void addMeeting(int low, int high, int first, int last, int far) {
-            int from = Math.max(low, first);
-            int to = Math.min(high, last);
-            if (from <= to) {
-                add(from + far, to + far);
+        private void addMoved(int low, int high, int far) {
+            if (low <= high) {
+                add(low + far, high + far);
             }
         }
 
@@ -873,21 +870,15 @@ public final class PatternWorks {
                         fail(6, at);
                     }
                 }
-                if (fault == 0) {
-                    addItem(low, high, alike);
+                if (fault == 0 && low == A_KIND) {
+                    set.addAll(kind, kindNot);
+                } else if (fault == 0 && alike) {
+                    set.addAlike(low, high);
+                } else if (fault == 0) {
+                    set.add(low, high);
                 }
             }
             return null;
-        }
-
-        private void addItem(int low, int high, boolean alike) {
-            if (low == A_KIND) {
-                set.addAll(kind, kindNot);
-            } else if (alike) {
-                set.addAlike(low, high);
-            } else {
-                set.add(low, high);
-            }
         }
 
         /** Reads a character of a class, plain or by an escape, or an escape that is a kind. */
@@ -991,7 +982,9 @@ public final class PatternWorks {
         private Part part() {
             int at = text.place;
             switch (text.peek(0)) {
-                case '\\': return escaped();
+                case '\\':
+                    int code = text.escape();
+                    return code >= NONE ? literal(code) : escaped(code);
                 case '[': return classPart(text.charClass(isOn(ANY_CASE)));
                 case '(':
                     open(at);
@@ -1019,17 +1012,16 @@ public final class PatternWorks {
             }
         }
 
-        private Part escaped() {
-            int code = text.escape();
-            if (code == Text.A_KIND) {
-                text.set.clear();
-                text.set.addAll(text.kind, text.kindNot);
-                return classPart(text.set.ranges(false));
-            }
-            if (code == Text.A_BYTE) {
+        private Part escaped(int what) {
+            if (what == Text.A_BYTE) {
                 return new Part(ANY_BYTE, 0, 1, false);
             }
-            return code <= Text.AN_ASSERTION ? new Part(ASSERTION, Text.AN_ASSERTION - code, 1, true) : literal(code);
+            if (what <= Text.AN_ASSERTION) {
+                return new Part(ASSERTION, Text.AN_ASSERTION - what, 1, true);
+            }
+            text.set.clear();
+            text.set.addAll(text.kind, text.kindNot);
+            return classPart(text.set.ranges(false));
         }
 
         private Part classPart(int[] ranges) {
@@ -1449,40 +1441,40 @@ public final class PatternWorks {
         }
     }
 
-    /** The bytes that patterns are matched in, with the characters that begin at them. */
+    /** The bytes that patterns are matched in, the characters that begin at them and the assertions that are so. */
     private static final class Subject {
         private int[] bytes = new int[32];
-        private int[] codes = {NONE};
-        private int[] rests = new int[1];
+        private int[] codes = new int[33];
+        private int[] rests = new int[33];
+        private int[] holding = new int[33];
         private int length;
+
+        Subject() {
+            codes[0] = NONE;
+            holding[0] = holdingAt(0);
+        }
 
         void take(Row tape) {
             length = tape.size;
             if (length > bytes.length) {
-                bytes = new int[Math.max(length, Math.min(TAPE_LIMIT, 2 * bytes.length))];
+                int room = Math.max(length, Math.min(TAPE_LIMIT, 2 * bytes.length));
+                bytes = new int[room];
+                codes = new int[room + 1];
+                rests = new int[room + 1];
+                holding = new int[room + 1];
             }
             System.arraycopy(tape.items, 0, bytes, 0, length);
-            if (length + 1 > codes.length) {
-                codes = new int[bytes.length + 1];
-                rests = new int[bytes.length + 1];
-            }
             int rest = 0;
             for (int at = 0; at <= length; at++) {
                 codes[at] = codeAt(bytes, at, length);
                 rest = codes[at] == NONE ? Math.max(rest - 1, 0) : widthOf(codes[at]);
                 rests[at] = rest;
+                holding[at] = holdingAt(at);
             }
         }
 
         boolean holds(int assertion, int place) {
-            switch (assertion) {
-                case AT_BEGIN: return place == 0;
-                case AT_END: return place == length;
-                case AT_LINE_BEGIN: return place == 0 || isLineFeed(place - 1);
-                case AT_LINE_END: return place == length || isLineFeed(place);
-                case AT_WORD_EDGE: return isWordByte(place - 1) != isWordByte(place);
-                default: return isWordByte(place - 1) == isWordByte(place);
-            }
+            return (holding[place] >> assertion & 1) != 0;
         }
 
         boolean isLineFeed(int place) {
@@ -1492,13 +1484,22 @@ public final class PatternWorks {
         boolean isWordByte(int place) {
             return place >= 0 && place < length && isWord(bytes[place]);
         }
+
+        private int holdingAt(int place) {
+            int bits = isWordByte(place - 1) != isWordByte(place) ? 1 << AT_WORD_EDGE : 1 << OFF_WORD_EDGE;
+            bits |= place == 0 ? 1 << AT_BEGIN : 0;
+            bits |= place == length ? 1 << AT_END : 0;
+            bits |= place == 0 || isLineFeed(place - 1) ? 1 << AT_LINE_BEGIN : 0;
+            bits |= place == length || isLineFeed(place) ? 1 << AT_LINE_END : 0;
+            return bits;
+        }
     }
 
     /** Goes one way after the other and marks what was tried at each place, so that nothing is tried twice. */
     private static final class Marks {
         private static final int STACK_LIMIT = 32768;
 
-        private final int[] spans;
+        private int[] spans = new int[SPAN_LIMIT];
         private final int[] work = new int[SPAN_LIMIT];
         private int[] marks = new int[64];
         private int words;
@@ -1513,14 +1514,11 @@ public final class PatternWorks {
         private Subject subject;
         private long steps;
 
-        Marks(int[] spans) {
-            this.spans = spans;
-        }
-
-        void begin(Program program, Subject subject, int how, int from) {
+        void begin(Program program, Subject subject, int how, int from, int[] spans) {
             this.program = program;
             this.subject = subject;
             this.how = how;
+            this.spans = spans;
             firstOnly = how == WHOLE || !program.isOn(LONGEST);
             full = false;
             words = program.count + 31 >> 5;
@@ -1577,7 +1575,7 @@ public final class PatternWorks {
             int state = begin;
             int place = beginPlace;
             int most = program.count * (subject.length + 1);
-            for (int turn = 0; turn < most && mark(state, place); turn++) {
+            for (int turn = 0; turn < most && !full && mark(state, place); turn++) {
                 int kind = program.kinds[state];
                 int value = program.other[state];
                 if (kind <= ANY_BYTE) {
@@ -1639,7 +1637,7 @@ public final class PatternWorks {
 
     /** Runs all ways side by side, a row of threads for each place, those that come first in order ahead. */
     private static final class Threads {
-        private final int[] spans;
+        private int[] spans = new int[SPAN_LIMIT];
         private final int[] work = new int[SPAN_LIMIT];
         private int[] now = new int[0];
         private int[] then = new int[0];
@@ -1657,14 +1655,11 @@ public final class PatternWorks {
         private boolean firstOnly;
         private long steps;
 
-        Threads(int[] spans) {
-            this.spans = spans;
-        }
-
-        int find(Program program, Subject subject, int how, int from) {
+        int find(Program program, Subject subject, int how, int from, int[] spans) {
             this.program = program;
             this.subject = subject;
             this.how = how;
+            this.spans = spans;
             firstOnly = how != WHOLE && !program.isOn(LONGEST);
             makeRows();
             found = false;
@@ -1698,8 +1693,8 @@ public final class PatternWorks {
                 seen = new int[2 * WAITING];
                 stack = new int[STATE_LIMIT + 1];
             }
-            // A run takes at most one stamp for each place and one more.
-            if (stamp > Integer.MAX_VALUE - TAPE_LIMIT - 8) {
+            // No run takes more stamps than there are places and a few.
+            if (stamp > 2000000000) {
                 Arrays.fill(seen, 0);
                 stamp = 0;
             }
@@ -1815,7 +1810,7 @@ public final class PatternWorks {
 
     /** Runs programs that are never of two minds: at no place do two of their ways take the same character. */
     private static final class OneMind {
-        private final int[] spans;
+        private int[] spans = new int[SPAN_LIMIT];
         private final int[] work = new int[SPAN_LIMIT];
         private final int[] onward = new int[SPAN_LIMIT];
         private final CharSet taken = new CharSet();
@@ -1830,10 +1825,6 @@ public final class PatternWorks {
         private int how;
         private boolean firstOnly;
         private long steps;
-
-        OneMind(int[] spans) {
-            this.spans = spans;
-        }
 
         boolean suits(Program program) {
             if (program.minds == Program.NEW) {
@@ -1910,10 +1901,11 @@ public final class PatternWorks {
         }
 
         /** The match at a place, of a program that suits. */
-        int find(Program program, Subject subject, int how, int from) {
+        int find(Program program, Subject subject, int how, int from, int[] spans) {
             this.program = program;
             this.subject = subject;
             this.how = how;
+            this.spans = spans;
             firstOnly = how != WHOLE && !program.isOn(LONGEST);
             found = false;
             Arrays.fill(work, 0, program.width, NONE);

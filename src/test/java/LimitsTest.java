@@ -1,0 +1,122 @@
+import java.util.Random;
+
+/** Long patterns, long subjects and steep repeats: nothing breaks, the machines agree, and no call is over. */
+public final class LimitsTest {
+    private static final Random CHANCE = new Random(7);
+
+    public static void main(String[] args) {
+        steepRepeats();
+        longClasses();
+        longPatterns(args.length > 0 ? Integer.parseInt(args[0]) : 300);
+        deepStacks();
+        machinesAgreeOnLongSubjects(args.length > 0 ? Integer.parseInt(args[0]) : 60);
+        Works.finish("LimitsTest");
+    }
+
+    private static void steepRepeats() {
+        Works works = new Works();
+        StringBuilder nothing = new StringBuilder();
+        StringBuilder much = new StringBuilder("a");
+        for (int i = 0; i < 30; i++) {
+            nothing.insert(0, "(?:").append("){100}");
+            much.insert(0, "(?:").append("){100}");
+        }
+        Works.same("nothing a hundred times a hundred ..", works.compile(0, 0, nothing.toString()), "0");
+        Works.same("its size", works.it.about(0, 1), 0);
+        works.subject("xy");
+        Works.same("it matches nothing", works.match(0, 0, 0, 1), "1-1");
+        Works.same("a hundred times a hundred ..", works.compile(0, 0, much.toString()), "fault 14 at -1");
+        Works.same("and none of that", works.compile(0, 0, "(?:" + much.substring(3, much.length() - 6) + "){0}b"), "0");
+        Works.same("its size", works.it.about(0, 1), 1);
+        Works.same("400", works.compile(1, 0, "a{100}a{100}a{100}a{100}"), "0");
+        Works.same("401", works.compile(1, 0, "a{100}a{100}a{100}a{100}a"), "fault 14 at -1");
+        Works.same("what was there stays", works.it.about(1, 1), 400);
+        Works.same("stars of nothing", works.compile(1, 0, "(?:(?:(?:(?:|a)*)*)*)*?(?:\\b*){0,100}"), "0");
+    }
+
+    private static void longClasses() {
+        Works works = new Works();
+        StringBuilder wide = new StringBuilder("[");
+        for (int i = 0; i < 990; i++) {
+            wide.append((char) (0x80 + 2 * i % 1900));
+        }
+        Works.same("a class of many ranges", works.compile(0, 1, wide + "]"), "fault 14 at -1");
+        Works.same("the same, never", works.compile(0, 1, wide + "]{0}"), "0");
+        StringBuilder many = new StringBuilder();
+        for (int i = 0; i < 660; i++) {
+            many.append("\\PL");
+        }
+        Works.same("many classes", works.compile(0, 0, many.toString()), "fault 14 at -1");
+        Works.same("the same, never", works.compile(0, 0, "(?:" + many + "){0}"), "0");
+        Works.same("98 ranges", works.compile(0, 0, "[" + wide.substring(1, 99) + "]"), "0");
+        Works.same("their size", works.it.about(0, 1), 2 + 4 * 98);
+    }
+
+    private static String chance(int length, String... of) {
+        StringBuilder all = new StringBuilder();
+        while (all.length() < length) {
+            all.append(of[CHANCE.nextInt(of.length)]);
+        }
+        return all.toString();
+    }
+
+    private static void longPatterns(int rounds) {
+        Works works = new Works();
+        for (int i = 0; i < rounds; i++) {
+            String pattern = chance(CHANCE.nextInt(900), "a", "b", "é", "(", ")", "(?:", "(?i)", "|", "*", "?", "{2}", "{0}",
+                "[a-c]", "[^x]", "\\w", "\\PL", ".", "\\b", "(?:)", "(?s-i:", "{0,3}?");
+            works.compile(i % 6, i % 32, pattern);
+            Works.same("a fault is told", works.it.fault(0) >= 0 && works.it.fault(0) <= 14 ? 1 : 0, 1);
+        }
+    }
+
+    private static void sameByAll(Works works, int slot, String what) {
+        for (int how = 0; how < 3; how++) {
+            String due = works.match(slot, how, 1, 0);
+            for (int machine = 0; machine < 5; machine++) {
+                Works.same(what + " how " + how + " by " + machine, works.match(slot, how, machine, 0), due);
+            }
+        }
+        Works.same(what + " over", works.it.over(), 0);
+    }
+
+    /** Ways with so much left to try that the marks' stack runs over and the threads take its place. */
+    private static void deepStacks() {
+        Works works = new Works();
+        works.subject("a".repeat(2000));
+        works.compile(0, 0, "((?:a??){50}a)*b|(a)*?$");
+        sameByAll(works, 0, "deep");
+        works.compile(1, 0, "(?:(?:b??|a??){20}(a))*");
+        sameByAll(works, 1, "deep");
+        Works.same("deep all", works.all(1), "0-2000");
+        works.compile(2, 0, "(?:(?:a??){50}a){300}");
+        Works.same("too big", works.it.fault(0), 9);
+        works.compile(2, 16, "((?:a??){60}a)*?(?:b|)");
+        sameByAll(works, 2, "longest");
+        works.compile(3, 0, "(?:(?:a??){90}a){2}");
+        Works.same("how many", works.it.all(3), 1000);
+        Works.same("over", works.it.over(), 0);
+    }
+
+    private static void machinesAgreeOnLongSubjects(int rounds) {
+        Works works = new Works();
+        for (int i = 0; i < rounds; i++) {
+            String pattern = "fault";
+            for (int turn = 0; turn < 50 && pattern.startsWith("fault"); turn++) {
+                String text = chance(CHANCE.nextInt(60), "a", "b", "(", ")", "(?:", "|", "*", "??", "{0,7}", "[ab]", "é", "\\C",
+                    ".", "\\b", "(a|b)*", "(?:ab|a)*?", "+", "[^b]{0,20}", "(?:a*)*", "$", "\\B");
+                pattern = works.compile(0, CHANCE.nextInt(8) == 0 ? 16 : 0, text);
+            }
+            if (!pattern.startsWith("fault")) {
+                byte[] subject = Works.utf8(chance(CHANCE.nextInt(990), "a", "b", "a", "é", "ab", "\n"));
+                works.subject(subject);
+                sameByAll(works, 0, "round " + i);
+                works.it.all(0);
+                works.it.split(0);
+                works.replace(0, "<$0>");
+                works.it.which(63, true);
+                Works.same("over", works.it.over(), 0);
+            }
+        }
+    }
+}

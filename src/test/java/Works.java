@@ -1,0 +1,164 @@
+import java.nio.charset.StandardCharsets;
+
+/** Checks and short forms that the tests share: texts go to the tape as UTF-8, or byte by byte. */
+final class Works {
+    final PatternWorks it = new PatternWorks();
+    private static int wrong = 0;
+    private static int checked = 0;
+
+    static byte[] utf8(String text) {
+        return text.getBytes(StandardCharsets.UTF_8);
+    }
+
+    /** Characters 0 to 255 are bytes. */
+    static byte[] raw(String text) {
+        return text.getBytes(StandardCharsets.ISO_8859_1);
+    }
+
+    static void same(String what, long got, long due) {
+        checked++;
+        if (got != due) {
+            wrong++;
+            if (wrong <= 40) {
+                System.out.println(what + " answered " + got + ", due is " + due);
+            }
+        }
+    }
+
+    static void same(String what, String got, String due) {
+        checked++;
+        if (!got.equals(due)) {
+            wrong++;
+            if (wrong <= 40) {
+                System.out.println(what + " answered " + got + ", due is " + due);
+            }
+        }
+    }
+
+    static void refused(String what, Runnable call) {
+        int got = 0;
+        try {
+            call.run();
+        } catch (IllegalArgumentException e) {
+            got = 1;
+        } catch (RuntimeException e) {
+            got = 2;
+        }
+        same(what + " throws IllegalArgumentException", got, 1);
+    }
+
+    static int wrongSoFar() {
+        return wrong;
+    }
+
+    static void finish(String test) {
+        System.out.println(test + ": " + checked + " answers looked at, " + wrong + " wrong");
+        if (wrong > 0 || checked == 0) {
+            System.exit(1);
+        }
+    }
+
+    private static int four(byte[] bytes, int at) {
+        int value = 0;
+        for (int i = 0; i < 4; i++) {
+            value = value << 8 | (at + i < bytes.length ? bytes[at + i] & 255 : 0);
+        }
+        return value;
+    }
+
+    Works put(byte[] bytes) {
+        for (int at = 0; at < bytes.length; at += 20) {
+            it.feed(four(bytes, at), four(bytes, at + 4), four(bytes, at + 8), four(bytes, at + 12), four(bytes, at + 16));
+            if (it.end(Math.min(20, bytes.length - at)) == PatternWorks.NONE) {
+                throw new IllegalStateException("the tape is full");
+            }
+        }
+        return this;
+    }
+
+    Works put(String text) {
+        return put(utf8(text));
+    }
+
+    /** How many groups, or the fault and its place as "fault 8 at 2". */
+    String compile(int slot, int flags, byte[] pattern) {
+        put(pattern);
+        try {
+            return "" + it.compile(slot, flags);
+        } catch (IllegalArgumentException e) {
+            return "fault " + it.fault(0) + " at " + it.fault(1);
+        }
+    }
+
+    String compile(int slot, int flags, String pattern) {
+        return compile(slot, flags, utf8(pattern));
+    }
+
+    Works subject(byte[] bytes) {
+        put(bytes);
+        it.subject();
+        return this;
+    }
+
+    Works subject(String text) {
+        return subject(utf8(text));
+    }
+
+    /** The spans of a match and its groups, as "2-4 2-4 -". */
+    String match(int slot, int how, int machine, int from) {
+        int end = it.match(slot, how, machine, from);
+        if (end != it.group(0, 1)) {
+            return "match() and group() differ";
+        }
+        return end == PatternWorks.NONE ? "none" : spans(it.about(slot, 0));
+    }
+
+    private String spans(int groups) {
+        StringBuilder all = new StringBuilder();
+        for (int k = 0; k <= groups; k++) {
+            all.append(k == 0 ? "" : " ").append(span(it.group(k, 0), it.group(k, 1)));
+        }
+        return all.toString();
+    }
+
+    static String span(int begin, int end) {
+        return begin == PatternWorks.NONE && end == PatternWorks.NONE ? "-" : begin + "-" + end;
+    }
+
+    /** All matches as "0-1 2-2". */
+    String all(int slot) {
+        int count = it.all(slot);
+        StringBuilder all = new StringBuilder();
+        for (int i = 0; i < count; i++) {
+            all.append(i == 0 ? "" : " ").append(span(it.found(i, 0), it.found(i, 1)));
+        }
+        return all.toString();
+    }
+
+    String split(int slot) {
+        int count = it.split(slot);
+        StringBuilder all = new StringBuilder();
+        for (int i = 0; i < count; i++) {
+            all.append(i == 0 ? "" : " ").append(span(it.piece(i, 0), it.piece(i, 1)));
+        }
+        return all.toString();
+    }
+
+    /** The output with characters 0 to 255 for bytes. */
+    String output(int length) {
+        StringBuilder all = new StringBuilder();
+        for (int i = 0; i < length; i++) {
+            all.append((char) it.output(i));
+        }
+        return it.output(length) == PatternWorks.NONE ? all.toString() : "the output is longer";
+    }
+
+    String replace(int slot, String template) {
+        put(raw(template));
+        try {
+            return output(it.replace(slot));
+        } catch (IllegalArgumentException e) {
+            return "refused";
+        }
+    }
+}
