@@ -38,7 +38,7 @@ public final class PatternWorks {
     /** What a machine answers when its rows are too short for the run, so that another one must do it. */
     private static final int GAVE_UP = -2;
 
-    // Kinds of parts of a pattern; the first five are also kinds of states of a program.
+    // Kinds of parts of a pattern; the first four are also kinds of states of a program.
     private static final int CHARACTER = 0;
     private static final int CLASS = 1;
     private static final int ANY_BYTE = 2;
@@ -688,8 +688,8 @@ public final class PatternWorks {
         private int size;
         private boolean mayBeEmpty;
         private boolean onceEmpty;
-        private int least = 1;
-        private int most = 1;
+        private int least;
+        private int most;
         private boolean lazy;
         private int record = NONE;
 
@@ -954,7 +954,6 @@ public final class PatternWorks {
             this.flags = flags;
             groups = 0;
             depth = 0;
-            Arrays.fill(nameLength, 0);
             Part whole = new Part(GROUP, 0, 0, false);
             whole.push(new Part(ROW, 0, 0, true));
             around[0] = whole;
@@ -1080,7 +1079,7 @@ public final class PatternWorks {
             }
             if (numbered) {
                 groups++;
-                nameAt[groups] = at + 4;
+                nameAt[groups] = name > 0 ? at + 4 : 0;
                 nameLength[groups] = name;
             }
             Part group = new Part(GROUP, numbered ? groups : 0, numbered ? 2 : 0, false);
@@ -1714,12 +1713,15 @@ public final class PatternWorks {
             stamp++;
         }
 
+        /**
+         * Takes what is at a place by each thread. An arrival is always better than those before: it ends
+         * later, and the threads that began behind the one that arrived first run no more.
+         */
         private void step(int place) {
             int width = program.width;
             for (int i = 0; i < nowCount; i++) {
                 steps++;
-                int begin = nowSpans[i * width];
-                if (found && begin > spans[0]) {
+                if (found && nowSpans[i * width] > spans[0]) {
                     return;
                 }
                 System.arraycopy(nowSpans, i * width, work, 0, width);
@@ -1728,21 +1730,15 @@ public final class PatternWorks {
                     goOn(state, subject.rests[place], place);
                 } else if (program.kinds[state] != ARRIVAL) {
                     goOn(state, program.bytesTaken(state, subject, place), place);
-                } else if (arrive(place) && firstOnly) {
-                    return;
+                } else if (how != WHOLE || place == subject.length) {
+                    System.arraycopy(work, 0, spans, 0, width);
+                    spans[1] = place;
+                    found = true;
+                    if (firstOnly) {
+                        return;
+                    }
                 }
             }
-        }
-
-        private boolean arrive(int place) {
-            boolean better = !found || work[0] < spans[0] || place > spans[1] || firstOnly;
-            if (how == WHOLE && place < subject.length || !better) {
-                return false;
-            }
-            System.arraycopy(work, 0, spans, 0, program.width);
-            spans[1] = place;
-            found = true;
-            return true;
         }
 
         /** Goes one byte on in a character that a state takes, of which so many bytes are left. */
@@ -2050,8 +2046,8 @@ public final class PatternWorks {
 
         /** Makes ready for a program; false if it tells more characters apart than there is room for. */
         private boolean prepare(Program program, boolean roaming) {
-            if (this.program != program || version != program.version) {
-                this.program = program;
+            this.program = program;
+            if (version != program.version) {
                 version = program.version;
                 findCuts();
                 count = 0;

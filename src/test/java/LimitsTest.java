@@ -9,6 +9,7 @@ public final class LimitsTest {
         longClasses();
         longPatterns(args.length > 0 ? Integer.parseInt(args[0]) : 300);
         deepStacks();
+        anyCalls(args.length > 0 ? Integer.parseInt(args[0]) : 200);
         machinesAgreeOnLongSubjects(args.length > 0 ? Integer.parseInt(args[0]) : 60);
         Works.finish("LimitsTest");
     }
@@ -50,6 +51,11 @@ public final class LimitsTest {
         Works.same("the same, never", works.compile(0, 0, "(?:" + many + "){0}"), "0");
         Works.same("98 ranges", works.compile(0, 0, "[" + wide.substring(1, 99) + "]"), "0");
         Works.same("their size", works.it.about(0, 1), 2 + 4 * 98);
+        works.subject("\u0081\u0080\u0142");
+        sameByAll(works, 0, "98 ranges");
+        Works.same("one of them", works.match(0, 0, 4, 0), "2-4");
+        Works.same("one of them", works.it.which(1, false), 1);
+        Works.same("not whole", works.it.which(1, true), 0);
     }
 
     private static String chance(int length, String... of) {
@@ -68,6 +74,58 @@ public final class LimitsTest {
             works.compile(i % 6, i % 32, pattern);
             Works.same("a fault is told", works.it.fault(0) >= 0 && works.it.fault(0) <= 14 ? 1 : 0, 1);
         }
+    }
+
+    /** Whatever is called in whatever order, nothing but the document's exception comes out, and over() is 0. */
+    private static void anyCalls(int rounds) {
+        for (int i = 0; i < rounds; i++) {
+            Works works = new Works();
+            String last = "";
+            for (int call = 0; call < 512; call++) {
+                try {
+                    last = anyCall(works);
+                } catch (IllegalArgumentException e) {
+                    last = "refused";
+                } catch (RuntimeException e) {
+                    Works.same("behind " + last + " came " + e, 1, 0);
+                    e.printStackTrace(System.out);
+                }
+            }
+            Works.same("over", works.it.over(), 0);
+        }
+    }
+
+    private static int number() {
+        int[] often = {-1, 0, 1, 2, 3, 4, 5, 6, 9, 10, 20, 31, 32, 63, 64, Integer.MIN_VALUE, Integer.MAX_VALUE, 1 << 30};
+        return CHANCE.nextInt(4) > 0 ? CHANCE.nextInt(6) : often[CHANCE.nextInt(often.length)];
+    }
+
+    private static String anyCall(Works works) {
+        PatternWorks it = works.it;
+        int call = CHANCE.nextInt(24);
+        switch (call) {
+            case 0: it.feed(CHANCE.nextInt(), CHANCE.nextInt(), CHANCE.nextInt(), CHANCE.nextInt(), CHANCE.nextInt()); break;
+            case 1: it.end(number()); break;
+            case 2: it.fault(number()); break;
+            case 3: it.about(number(), number()); break;
+            case 4: it.name(number(), number(), number()); break;
+            case 5: it.subject(); break;
+            case 6: it.group(number(), number()); break;
+            case 7: it.all(number()); break;
+            case 8: it.found(number(), number()); break;
+            case 9: it.replace(number()); break;
+            case 10: it.split(number()); break;
+            case 11: it.piece(number(), number()); break;
+            case 12: it.which(number(), CHANCE.nextBoolean()); break;
+            case 13: it.quote(); break;
+            case 14: it.output(number()); break;
+            case 15: it.keep(number()); break;
+            case 16: it.compile(number(), number()); break;
+            case 17: works.put(chance(CHANCE.nextInt(9), "a", "b", "$1", "$0", "${n}", "$$", "é", "(a)", "(?P<n>b|)", "*")); break;
+            case 18: case 19: works.put(chance(CHANCE.nextInt(30), "a", "(b|)", "*", ".", "(?P<n>a?)", "|", "[^a]", "\\C")); break;
+            default: it.match(number(), number(), number(), number()); break;
+        }
+        return "call " + call;
     }
 
     private static void sameByAll(Works works, int slot, String what) {

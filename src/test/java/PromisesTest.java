@@ -152,6 +152,7 @@ public final class PromisesTest {
         fault(w, "[\\", 5, 1);
         fault(w, "\\\u00C3\u00A9", 5, 0);
         fault(w, "\\\u00FF", 5, 0);
+        fault(w, "\\\u0080", 5, 0);
         fault(w, "\\_", 5, 0);
         fault(w, "\\1", 5, 0);
         fault(w, "\\x4", 5, 0);
@@ -165,6 +166,7 @@ public final class PromisesTest {
         fault(w, "[a-\\p", 5, 3);
         fault(w, "[z-a]", 6, 1);
         fault(w, "[xz-a]", 6, 2);
+        fault(w, "[a-\\x00]", 6, 1);
         fault(w, "[a-\\d]", 6, 1);
         fault(w, "[\\x41-\\PL]", 6, 1);
         fault(w, "[a-[:", 6, 1);
@@ -197,6 +199,8 @@ public final class PromisesTest {
         fault(w, "(?P<a-b>a)", 10, 0);
         fault(w, "(?P<abcdefghijklm>a)", 10, 0);
         fault(w, "(?<n>a)", 10, 0);
+        fault(w, "(?P=n>a)", 10, 0);
+        fault(w, "(?X<n>a)", 10, 0);
         fault(w, "(?P<n>a)(?P<n>", 11, 8);
         fault(w, many + "(?x", 10, 90);
         fault(w, "(?P<n>" + many.substring(3) + "(?P<n>", 11, 93);
@@ -247,6 +251,7 @@ public final class PromisesTest {
         size(w, ".", 0, 14);
         size(w, ".", 4, 10);
         size(w, "[^\\x00-\\x{10FFFF}]", 0, 2);
+        size(w, "[^\\x00-\\x{10FFFE}]", 0, 6);
         size(w, "[\\x{D7FF}\\x{E000}]", 0, 10);
         size(w, "[\\x{D000}-\\x{E100}]", 0, 10);
         size(w, "\\C", 0, 1);
@@ -338,6 +343,10 @@ public final class PromisesTest {
         matches("(a*)+", 0, "b", 0, 0, "0-0 0-0");
         matches("(a?b??)*", 0, "ab", 0, 0, "0-2 1-2");
         matches("(a??)?", 0, "a", 0, 0, "0-0 0-0");
+        matches("(?:(?:a|\\b) ??)*", 0, "a ", 0, 0, "0-2");
+        matches("(?:(?:a|$)\n??)*", 2, "a\n", 0, 0, "0-2");
+        matches("(?:(?:a|^)\n??)*", 2, "\n\n", 0, 0, "0-2");
+        matches("(?:(?:a|)b??)*", 0, "ab", 0, 0, "0-2");
         matches("(?:(a)|(b))*", 0, "ab", 0, 0, "0-2 0-1 1-2");
         matches("(a){0}b", 0, "ab", 0, 0, "1-2 -");
         matches("(a{2}){2,3}?", 0, "aaaaaaa", 0, 0, "0-4 2-4");
@@ -372,6 +381,11 @@ public final class PromisesTest {
         matches("[]a-]+", 0, "x]-a", 0, 0, "1-4");
         matches("(a+)+$", 0, "a".repeat(60) + "b", 0, 0, "none");
         matches("(x+x+)+y", 0, "x".repeat(300), 0, 0, "none");
+        matches("(?-s)a", 0, "A", 0, 0, "none");
+        matches("(?i-s)a(?s-m).", 0, "A\n", 0, 0, "0-2");
+        matches("(?U-U)(a*)", 8, "aa", 0, 0, "0-2 0-2");
+        characters();
+        wordBytes();
         Works w = new Works();
         w.compile(0, 0, "a");
         w.subject("aa");
@@ -385,6 +399,63 @@ public final class PromisesTest {
         Works.refused("9: no place", () -> w.it.match(0, 0, 0, 3));
         Works.refused("9: no place", () -> w.it.match(0, 0, 0, -1));
         Works.same("9: the last place", w.match(0, 0, 0, 2), "none");
+    }
+
+    /** Each width of a character, at its ends, plain, by an escape, and with its last byte lost. */
+    private static void characters() {
+        int[] codes = {0, 0x7F, 0x80, 0xBF, 0xC0, 0x7FF, 0x800, 0xFFF, 0x1000, 0xCFFF, 0xD7FF, 0xE000, 0xFFFF, 0x10000,
+            0x3FFFF, 0x40000, 0xFFFFF, 0x100000, 0x10FFFF};
+        for (int code : codes) {
+            byte[] bytes = Works.utf8(new String(Character.toChars(code)));
+            String text = new String(bytes, java.nio.charset.StandardCharsets.ISO_8859_1);
+            String due = "0-" + bytes.length;
+            String hex = Integer.toHexString(code);
+            matches("(?s).", 0, text, 2, 0, due);
+            matches("\\x{" + hex + "}", 0, text, 2, 0, due);
+            matches("[\\x{" + hex + "}-\\x{10FFFF}]", 0, text, 2, 0, due);
+            matches("\\C{" + bytes.length + "}", 0, text, 2, 0, due);
+            matches("(?s).", 0, text.substring(0, text.length() - 1), 0, 0, "none");
+            if (code > 127) {
+                matches(new String(Character.toChars(code)), 0, text, 2, 0, due);
+                matches("(?s).", 0, text.substring(1), 0, 0, "none");
+            }
+        }
+        String[] odd = {"\u0080", "\u00BF", "\u00C0\u0080", "\u00C1\u00BF", "\u00E0\u009F\u00BF", "\u00ED\u00A0\u0080",
+            "\u00ED\u00BF\u00BF", "\u00F0\u008F\u00BF\u00BF", "\u00F4\u0090\u0080\u0080", "\u00F5\u0080\u0080\u0080", "\u00FF"};
+        for (String bytes : odd) {
+            matches("(?s).", 0, bytes, 0, 0, "none");
+            matches("\\C*", 0, bytes, 0, 0, "0-" + bytes.length());
+        }
+    }
+
+    /** Which bytes are of words, by assertions, classes, escapes and quotes. */
+    private static void wordBytes() {
+        for (int code = 0; code < 256; code++) {
+            boolean word = code < 128 && (Character.isLetterOrDigit(code) || code == '_');
+            Works w = new Works();
+            byte[] one = {(byte) code};
+            w.subject(one);
+            w.compile(0, 0, "\\b");
+            Works.same("9: \\b at " + code, w.all(0), word ? "0-0 1-1" : "");
+            w.compile(0, 0, "\\B");
+            Works.same("9: \\B at " + code, w.all(0), word ? "" : "0-0 1-1");
+            w.compile(0, 0, "\\w");
+            Works.same("9: \\w at " + code, w.all(0), word ? "0-1" : "");
+            w.compile(0, 0, "\\W");
+            Works.same("9: \\W at " + code, w.all(0), word || code > 127 ? "" : "0-1");
+            w.put(one);
+            Works.same("17: " + code, w.it.quote(), word || code > 127 ? 1 : 2);
+            byte[] escape = {'\\', (byte) code};
+            if (word) {
+                boolean known = "afnrtvAzbBCdDsSwW".indexOf(code) >= 0;
+                Works.same("5: \\ and " + (char) code, w.compile(1, 0, escape), known ? "0" : "fault 5 at 0");
+            } else {
+                Works.same("5: \\ and " + code, w.compile(1, 0, escape), code > 127 ? "fault 5 at 0" : "0");
+                if (code < 128) {
+                    Works.same("9: \\ and " + code, w.match(1, 2, 0, 0), "0-1");
+                }
+            }
+        }
     }
 
     private static void group() {
@@ -457,6 +528,8 @@ public final class PromisesTest {
         w.subject("xabay");
         Works.same("13: groups", w.replace(0, "[$1|$2|$0]"), "x[a|b|ab][a||a]y");
         Works.same("13: names", w.replace(0, "${one}$$1"), "xa$1a$1y");
+        w.compile(3, 0, "(?P<one>a)(?P<on2>b)?(?P<o>)");
+        Works.same("13: more names", w.replace(3, "<${on2}${o}${one}>"), "x<ba><a>y");
         Works.same("13: $10 is $1 and 0", w.replace(0, "$10"), "xa0a0y");
         Works.same("13: nothing", w.replace(0, ""), "xy");
         Works.same("13: any bytes", w.replace(0, "\u00FF\0"), "x\u00FF\0\u00FF\0y");
@@ -471,6 +544,8 @@ public final class PromisesTest {
         Works.refused("13: no slot", () -> w.it.replace(-1));
         Works.same("13: the tape stays then", w.it.end(0), 2);
         Works.same("13: it is the template then", w.it.replace(0), 5);
+        w.compile(4, 0, "(((((((((a)))))))))");
+        Works.same("13: nine groups", w.replace(4, "$9$8$0"), "xaaabaaay");
         w.subject("y");
         Works.same("13: a template is looked at without a match", w.replace(0, "$"), "refused");
         Works.same("13: without a match", w.replace(0, "$1$2"), "y");
@@ -560,6 +635,8 @@ public final class PromisesTest {
         Works.same("18: behind it", w.it.output(4000), NONE);
         Works.same("18: ahead", w.it.output(-1), NONE);
         Works.same("18: a byte", w.it.output(0), '\\');
+        w.put(Works.raw("\u007F\u0080"));
+        Works.same("17: below 128", w.it.quote(), 3);
         w.put(Works.raw("\u00FF"));
         w.it.quote();
         Works.same("18: bytes are 0 to 255", w.it.output(0), 255);

@@ -6,7 +6,7 @@ import java.util.Random;
 public final class WaysTest {
     private static final String[] TOKENS = {
         "a", "b", "c", "A", "k", "s", "_", "0", "\n", " ", "é", "É", "ß", "σ", "ς", "Σ", "я", "Я", "å", "µ", "€", "😀",
-        "(", ")", "(?:", "(?i)", "(?i:", "(?-i)", "(?m)", "(?s)", "(?U)", "(?ms-iU:", "(?P<n>", "(?P<m1>", "(?)",
+        "(", ")", "(?:", "(?i)", "(?i:", "(?-i)", "(?m)", "(?s)", "(?U)", "(?ms-iU:", "(?-s)", "(?i-m:", "(?s-U)", "(?P<n>", "(?P<m1>", "(?)",
         "(?-)", "(?P<", "(?x)", "(?P=n)", "(?", "|", "*", "+", "?", "*?", "+?", "??", "{2}", "{0}", "{1,2}", "{0,2}?",
         "{2,}", "{1,}?", "{3,2}", "{101}", "{1000}", "{,2}", "{", "}", "{2", "{100}", ".", "^", "$", "\\A", "\\z", "\\b",
         "\\B", "\\C", "\\d", "\\D", "\\s", "\\S", "\\w", "\\W", "\\pL", "\\PL", "\\pN", "\\pG", "\\PY", "\\pX", "\\p",
@@ -29,6 +29,8 @@ public final class WaysTest {
         }
         Works works = new Works();
         for (int round = 0; round < rounds && Works.wrongSoFar() < 20; round++) {
+            // Rows that have grown hide what short ones show, so most objects are new.
+            works = CHANCE.nextInt(4) == 0 ? works : new Works();
             byte[] pattern = pattern(round);
             int flags = CHANCE.nextInt(3) == 0 ? CHANCE.nextInt(32) : CHANCE.nextInt(4) == 0 ? 16 : 0;
             tryPattern(works, pattern, flags);
@@ -44,6 +46,9 @@ public final class WaysTest {
                 soup.append(TOKENS[CHANCE.nextInt(TOKENS.length)]);
             }
             return Works.utf8(soup.toString());
+        }
+        if (round % 4 == 2) {
+            return Works.utf8(wavering(3) + one("", "$", "b", "a*"));
         }
         byte[] made = Works.utf8(alternatives(CHANCE.nextInt(4)));
         if (round % 8 == 1 && made.length > 0) {
@@ -70,6 +75,15 @@ public final class WaysTest {
             }
         }
         return all.toString();
+    }
+
+    /** Repeats of what may take nothing, greedy and lazy within one another: there the order of ways is delicate. */
+    private static String wavering(int depth) {
+        if (depth == 0 || CHANCE.nextInt(5) == 0) {
+            return one("a", "b", "a?", "b?", "a??", "b??", "a*", "b*?", "", "\\b", "^", "a", "b", "[ab]??");
+        }
+        String inside = wavering(depth - 1) + one("", "|", "") + wavering(depth - 1) + one("", "", "|", "|" + wavering(0));
+        return one("(", "(?:") + inside + ")" + one("*", "*?", "+", "+?", "?", "??", "{2,}", "{0,2}", "{1,2}?", "*", "");
     }
 
     private static String part(int depth) {
