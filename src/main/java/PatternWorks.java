@@ -241,7 +241,18 @@ public final class PatternWorks {
         if (!sound) {
             throw new IllegalArgumentException("no such template");
         }
-        if (!fillSpare(program)) {
+        spare.clear();
+        int before = NONE;
+        int count = 0;
+        boolean fits = true;
+        beginHunt(program);
+        for (int turn = 0; turn <= subject.length && fits && hunt(program, before); turn++) {
+            fits = spare.addAll(subject.bytes, Math.max(before, 0), spans[0]) && addTemplate();
+            before = spans[1];
+            count++;
+        }
+        settle(program.size, count);
+        if (!fits || !spare.addAll(subject.bytes, Math.max(before, 0), subject.length)) {
             throw new IllegalArgumentException("too much output");
         }
         Row filled = spare;
@@ -439,24 +450,7 @@ public final class PatternWorks {
         return group == NONE ? DEAD_DOLLAR : -1 - group;
     }
 
-    /** Makes the replaced subject in the spare row; false if it would be too long. */
-    private boolean fillSpare(Program program) {
-        spare.clear();
-        int before = NONE;
-        int copied = 0;
-        int count = 0;
-        boolean fits = true;
-        beginHunt(program);
-        for (int turn = 0; turn <= subject.length && fits && hunt(program, before); turn++) {
-            fits = spare.addAll(subject.bytes, copied, spans[0]) && addTemplate();
-            before = spans[1];
-            copied = spans[1];
-            count++;
-        }
-        settle(program.size, count);
-        return fits && spare.addAll(subject.bytes, copied, subject.length);
-    }
-
+    /** Puts the template, filled with the match's groups, to the spare row; false if that gets too long. */
     private boolean addTemplate() {
         boolean fits = true;
         for (int i = 0; i < template.size && fits; i++) {
@@ -511,6 +505,16 @@ public final class PatternWorks {
             code = code << 6 | tail & 0x3F;
         }
         return widthOf(code) == width && isCharacter(code) ? code : NONE;
+    }
+
+    /** An entry of a stack, below 0 as no state is, that brings back what a row of spans has now. */
+    private static int undoOf(int[] work, int slot) {
+        return -1 - (slot << 12 | work[slot] + 1);
+    }
+
+    private static void undo(int[] work, int entry) {
+        int told = -1 - entry;
+        work[told >> 12] = (told & 4095) - 1;
     }
 
     /** A row of numbers that grows up to a limit and is used again. */
@@ -683,6 +687,7 @@ public final class PatternWorks {
         private int[] ranges;
         private int place = NONE;
         private int flagsAround;
+        private Part outer;
         private Part last;
         private Part before;
         private int size;
@@ -706,10 +711,12 @@ public final class PatternWorks {
             last = part;
         }
 
-        void pushPart(Part part) {
-            push(part);
-            size = Math.min(SIZE_TOP, size + part.size);
-            mayBeEmpty &= part.mayBeEmpty;
+        void pushInLastRow(Part part) {
+            if (last != null) {
+                last.push(part);
+                last.size = Math.min(SIZE_TOP, last.size + part.size);
+                last.mayBeEmpty &= part.mayBeEmpty;
+            }
         }
 
         /** Sums up a group whose rows are all there. */
@@ -938,7 +945,7 @@ public final class PatternWorks {
     /** Reads a pattern into parts. */
     private static final class Reader {
         private final Text text = new Text();
-        private final Part[] around = new Part[DEPTH_LIMIT + 1];
+        private Part inner = new Part(GROUP, 0, 0, false);
         private int depth;
         private int flags;
         private int groups;
@@ -956,15 +963,15 @@ public final class PatternWorks {
             depth = 0;
             Part whole = new Part(GROUP, 0, 0, false);
             whole.push(new Part(ROW, 0, 0, true));
-            around[0] = whole;
+            inner = whole;
             for (int turn = 0; turn < text.length && text.place < text.length && text.fault == 0; turn++) {
                 Part part = part();
                 if (part != null) {
                     append(part);
                 }
             }
-            if (depth > 0 && around[depth] != null) {
-                text.fail(2, around[depth].place);
+            if (depth > 0) {
+                text.fail(2, inner.place);
             }
             whole.closeRows();
             if (whole.size > SIZE_LIMIT) {
@@ -1000,7 +1007,7 @@ public final class PatternWorks {
                     return new Part(ASSERTION, isOn(MANY_LINES) ? AT_LINE_END : AT_END, 1, true);
                 case '|':
                     text.place++;
-                    around[depth].push(new Part(ROW, 0, 0, true));
+                    inner.push(new Part(ROW, 0, 0, true));
                     return null;
                 default:
                     if (isRepeat()) {
@@ -1086,17 +1093,19 @@ public final class PatternWorks {
             group.place = at;
             group.flagsAround = flags;
             group.push(new Part(ROW, 0, 0, true));
+            group.outer = inner;
+            inner = group;
             depth++;
-            around[depth] = group;
             flags = inside;
         }
 
         private Part close() {
-            if (depth == 0) {
+            if (inner.outer == null) {
                 text.fail(3, text.place);
                 return null;
             }
-            Part group = around[depth];
+            Part group = inner;
+            inner = group.outer;
             depth--;
             text.place++;
             flags = group.flagsAround;
@@ -1174,7 +1183,7 @@ public final class PatternWorks {
             } else {
                 part.repeat(1, 1, false);
             }
-            around[depth].last.pushPart(part);
+            inner.pushInLastRow(part);
         }
 
         /** Tells whether a repeat stands here, and if so how often and where it ends. */
@@ -1561,8 +1570,7 @@ public final class PatternWorks {
                 depth--;
                 int entry = stack[depth];
                 if (entry < 0) {
-                    int undo = -1 - entry;
-                    work[undo >> 12] = (undo & 4095) - 1;
+                    undo(work, entry);
                 } else {
                     walk(entry & 1023, entry >> 10);
                 }
@@ -1586,7 +1594,7 @@ public final class PatternWorks {
                 } else if (kind == SPLIT) {
                     push(place << 10 | value);
                 } else if (kind == SAVE) {
-                    push(-1 - (value << 12 | work[value] + 1));
+                    push(undoOf(work, value));
                     work[value] = place;
                 } else if (kind == ARRIVAL) {
                     arrive(place);
@@ -1726,10 +1734,14 @@ public final class PatternWorks {
                 }
                 System.arraycopy(nowSpans, i * width, work, 0, width);
                 int state = now[i] & WAITING - 1;
-                if (now[i] >= WAITING) {
-                    goOn(state, subject.rests[place], place);
-                } else if (program.kinds[state] != ARRIVAL) {
-                    goOn(state, program.bytesTaken(state, subject, place), place);
+                if (now[i] >= WAITING || program.kinds[state] != ARRIVAL) {
+                    boolean waits = now[i] >= WAITING;
+                    int left = waits ? subject.rests[place] : program.bytesTaken(state, subject, place);
+                    if (left == 1) {
+                        follow(program.next[state], place + 1);
+                    } else if (left > 1) {
+                        put(state + WAITING);
+                    }
                 } else if (how != WHOLE || place == subject.length) {
                     System.arraycopy(work, 0, spans, 0, width);
                     spans[1] = place;
@@ -1741,18 +1753,10 @@ public final class PatternWorks {
             }
         }
 
-        /** Goes one byte on in a character that a state takes, of which so many bytes are left. */
-        private void goOn(int state, int left, int place) {
-            if (left == 1) {
-                follow(program.next[state], place + 1);
-            } else if (left > 1 && seen[state + WAITING] != stamp) {
-                seen[state + WAITING] = stamp;
-                put(state + WAITING);
-            }
-        }
-
+        /** Puts a state into the row of the next place, with what the work has of the groups, if it is new there. */
         private void put(int entry) {
-            if (thenCount < then.length) {
+            if (seen[entry] != stamp && thenCount < then.length) {
+                seen[entry] = stamp;
                 then[thenCount] = entry;
                 System.arraycopy(work, 0, thenSpans, thenCount * program.width, program.width);
                 thenCount++;
@@ -1767,8 +1771,7 @@ public final class PatternWorks {
                 depth--;
                 int entry = stack[depth];
                 if (entry < 0) {
-                    int undo = -1 - entry;
-                    work[undo >> 12] = (undo & 4095) - 1;
+                    undo(work, entry);
                 } else {
                     depth = walk(entry, place, depth);
                 }
@@ -1780,13 +1783,13 @@ public final class PatternWorks {
             int state = begin;
             for (int turn = 0; turn < STATE_LIMIT && seen[state] != stamp; turn++) {
                 steps++;
-                seen[state] = stamp;
                 int kind = program.kinds[state];
                 int value = program.other[state];
                 if (kind <= ANY_BYTE || kind == ARRIVAL) {
                     put(state);
                     return depth;
                 }
+                seen[state] = stamp;
                 if (kind == DEAD_END || kind == ASSERTION && !subject.holds(value, place)) {
                     return depth;
                 }
@@ -1794,7 +1797,7 @@ public final class PatternWorks {
                     stack[depth] = value;
                     depth++;
                 } else if (kind == SAVE && depth < stack.length) {
-                    stack[depth] = -1 - (value << 12 | work[value] + 1);
+                    stack[depth] = undoOf(work, value);
                     depth++;
                     work[value] = place;
                 }
@@ -1931,8 +1934,7 @@ public final class PatternWorks {
                 depth--;
                 int state = stack[depth];
                 if (state < 0) {
-                    int undo = -1 - state;
-                    work[undo >> 12] = (undo & 4095) - 1;
+                    undo(work, state);
                 } else if (program.kinds[state] == ARRIVAL) {
                     over = arrive(place);
                 } else if (program.takes(state)) {
@@ -1956,7 +1958,7 @@ public final class PatternWorks {
                 stack[depth] = value;
                 depth++;
             } else if (kind == SAVE) {
-                stack[depth] = -1 - (value << 12 | work[value] + 1);
+                stack[depth] = undoOf(work, value);
                 depth++;
                 work[value] = place;
             }
