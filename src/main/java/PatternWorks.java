@@ -58,6 +58,22 @@ public final class PatternWorks {
     /** Above every state, so that a state and this tell one that waits for its character's last byte. */
     private static final int WAITING = 1024;
 
+    // Faults of patterns.
+    private static final int ODD_BYTE = 1;
+    private static final int OPEN_GROUP = 2;
+    private static final int NO_GROUP = 3;
+    private static final int OPEN_CLASS = 4;
+    private static final int NO_ESCAPE = 5;
+    private static final int BAD_RANGE = 6;
+    private static final int NO_KIND = 7;
+    private static final int STRAY_REPEAT = 8;
+    private static final int BAD_COUNT = 9;
+    private static final int NO_GROUP_HEAD = 10;
+    private static final int NAME_TAKEN = 11;
+    private static final int TOO_DEEP = 12;
+    private static final int TOO_MANY_GROUPS = 13;
+    private static final int TOO_BIG = 14;
+
     // Assertions.
     private static final int AT_BEGIN = 0;
     private static final int AT_END = 1;
@@ -780,7 +796,7 @@ public final class PatternWorks {
         int character() {
             int code = codeAt(bytes, place, length);
             if (code == NONE) {
-                return fail(1, place);
+                return fail(ODD_BYTE, place);
             }
             place += widthOf(code);
             return code;
@@ -808,7 +824,7 @@ public final class PatternWorks {
                 case 's': case 'S': return aKind(SPACES, letter == 'S');
                 case 'w': case 'W': return aKind(WORDS, letter == 'W');
                 case 'p': case 'P': return property(at, letter == 'P');
-                default: return letter >= 0 && letter < 128 && !isWord(letter) ? letter : fail(5, at);
+                default: return letter >= 0 && letter < 128 && !isWord(letter) ? letter : fail(NO_ESCAPE, at);
             }
         }
 
@@ -826,7 +842,7 @@ public final class PatternWorks {
                 case 'N': return aKind(NUMBERS, not);
                 case 'G': return aKind(GREEK, not);
                 case 'Y': return aKind(CYRILLIC, not);
-                default: return fail(letter == NONE ? 5 : 7, at);
+                default: return fail(letter == NONE ? NO_ESCAPE : NO_KIND, at);
             }
         }
 
@@ -843,7 +859,7 @@ public final class PatternWorks {
             }
             boolean whole = braces ? digits > 0 && peek(0) == '}' : digits == 2;
             place += braces ? 1 : 0;
-            return whole && isCharacter(code) ? code : fail(5, at);
+            return whole && isCharacter(code) ? code : fail(NO_ESCAPE, at);
         }
 
         private int hexDigit(int at) {
@@ -874,7 +890,7 @@ public final class PatternWorks {
                     place++;
                     high = isNamedKind() ? A_KIND : member(open);
                     if (high == A_KIND || high >= 0 && high < low) {
-                        fail(6, at);
+                        fail(BAD_RANGE, at);
                     }
                 }
                 if (fault == 0 && low == A_KIND) {
@@ -891,14 +907,14 @@ public final class PatternWorks {
         /** Reads a character of a class, plain or by an escape, or an escape that is a kind. */
         private int member(int open) {
             if (place >= length) {
-                return fail(4, open);
+                return fail(OPEN_CLASS, open);
             }
             if (peek(0) != '\\') {
                 return character();
             }
             int at = place;
             int code = escape();
-            return code < A_KIND ? fail(5, at) : code;
+            return code < A_KIND ? fail(NO_ESCAPE, at) : code;
         }
 
         private boolean isNamedKind() {
@@ -911,7 +927,7 @@ public final class PatternWorks {
             int begin = at + (not ? 3 : 2);
             int[] ranges = rangesNamed(begin);
             place = begin + 7;
-            return ranges == null ? fail(7, at) : aKind(ranges, not);
+            return ranges == null ? fail(NO_KIND, at) : aKind(ranges, not);
         }
 
         private int[] rangesNamed(int begin) {
@@ -971,11 +987,11 @@ public final class PatternWorks {
                 }
             }
             if (depth > 0) {
-                text.fail(2, inner.place);
+                text.fail(OPEN_GROUP, inner.place);
             }
             whole.closeRows();
             if (whole.size > SIZE_LIMIT) {
-                text.fail(14, NONE);
+                text.fail(TOO_BIG, NONE);
             }
             return text.fault == 0 ? whole : null;
         }
@@ -1011,7 +1027,7 @@ public final class PatternWorks {
                     return null;
                 default:
                     if (isRepeat()) {
-                        text.fail(8, at);
+                        text.fail(STRAY_REPEAT, at);
                         return null;
                     }
                     return literal(text.character());
@@ -1062,7 +1078,7 @@ public final class PatternWorks {
                 int name = nameLengthAt(at + 4);
                 text.place = at + 5 + name;
                 if (name == 0 || isTaken(at + 4, name)) {
-                    text.fail(name == 0 ? 10 : 11, at);
+                    text.fail(name == 0 ? NO_GROUP_HEAD : NAME_TAKEN, at);
                 } else {
                     enter(at, true, flags, name);
                 }
@@ -1081,7 +1097,7 @@ public final class PatternWorks {
 
         private void enter(int at, boolean numbered, int inside, int name) {
             if (depth >= DEPTH_LIMIT || numbered && groups >= GROUP_LIMIT) {
-                text.fail(depth >= DEPTH_LIMIT ? 12 : 13, at);
+                text.fail(depth >= DEPTH_LIMIT ? TOO_DEEP : TOO_MANY_GROUPS, at);
                 return;
             }
             if (numbered) {
@@ -1101,7 +1117,7 @@ public final class PatternWorks {
 
         private Part close() {
             if (inner.outer == null) {
-                text.fail(3, text.place);
+                text.fail(NO_GROUP, text.place);
                 return null;
             }
             Part group = inner;
@@ -1146,14 +1162,14 @@ public final class PatternWorks {
                 }
                 int flag = flagOf(letter);
                 if (flag == 0 && (minus || letter != '-')) {
-                    return text.fail(10, at);
+                    return text.fail(NO_GROUP_HEAD, at);
                 }
                 on |= minus ? 0 : flag;
                 off |= minus ? flag : 0;
                 minus |= flag == 0;
                 text.place++;
             }
-            return minus && off == 0 ? text.fail(10, at) : (flags | on) & ~off;
+            return minus && off == 0 ? text.fail(NO_GROUP_HEAD, at) : (flags | on) & ~off;
         }
 
         private static int flagOf(int letter) {
@@ -1173,7 +1189,7 @@ public final class PatternWorks {
                 boolean counted = text.peek(0) == '{';
                 boolean tooMuch = least > 100 || most != ENDLESS && (most > 100 || least > most);
                 if (counted && tooMuch) {
-                    text.fail(9, at);
+                    text.fail(BAD_COUNT, at);
                     return;
                 }
                 text.place = behindRepeat;
