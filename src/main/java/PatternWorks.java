@@ -35,7 +35,7 @@ public final class PatternWorks {
     private static final int BY_ONE_MIND = 3;
     private static final int BY_STATES = 4;
 
-    /** What a machine answers when its rows are too short for the run, so that another one must do it. */
+    /** What the states answer when their rows are too short for a program, so that another machine must run. */
     private static final int GAVE_UP = -2;
 
     // Kinds of parts of a pattern; the first four are also kinds of states of a program.
@@ -131,7 +131,6 @@ public final class PatternWorks {
     private final Row template = new Row(TAPE_LIMIT);
     private Row result = new Row(OUTPUT_LIMIT);
     private Row spare = new Row(OUTPUT_LIMIT);
-    private boolean marksFull;
     private int compiled;
     private int overs;
 
@@ -233,8 +232,8 @@ public final class PatternWorks {
         }
         matches.clear();
         int before = NONE;
-        beginHunt(program);
-        for (int turn = 0; turn <= subject.length && hunt(program, before); turn++) {
+        marks.begin(program, subject, SEARCH, 0, spans);
+        for (int turn = 0; turn <= subject.length && hunt(before); turn++) {
             matches.add(spans[0]);
             matches.add(spans[1]);
             before = spans[1];
@@ -261,8 +260,8 @@ public final class PatternWorks {
         int before = NONE;
         int count = 0;
         boolean fits = true;
-        beginHunt(program);
-        for (int turn = 0; turn <= subject.length && fits && hunt(program, before); turn++) {
+        marks.begin(program, subject, SEARCH, 0, spans);
+        for (int turn = 0; turn <= subject.length && fits && hunt(before); turn++) {
             fits = spare.addAll(subject.bytes, Math.max(before, 0), spans[0]) && addTemplate();
             before = spans[1];
             count++;
@@ -286,8 +285,8 @@ public final class PatternWorks {
         pieces.add(0);
         int before = NONE;
         int count = 0;
-        beginHunt(program);
-        for (int turn = 0; turn <= subject.length && hunt(program, before); turn++) {
+        marks.begin(program, subject, SEARCH, 0, spans);
+        for (int turn = 0; turn <= subject.length && hunt(before); turn++) {
             before = spans[1];
             count++;
             boolean parts = spans[0] < spans[1] || spans[0] > 0 && spans[0] < subject.length;
@@ -379,33 +378,16 @@ public final class PatternWorks {
             return NONE;
         }
         marks.begin(program, subject, how, from, spans);
-        int reached = marks.find(from);
-        return reached == GAVE_UP ? threads.find(program, subject, how, from, spans) : reached;
+        return marks.find(from);
     }
 
-    private void beginHunt(Program program) {
-        marksFull = false;
-        marks.begin(program, subject, SEARCH, 0, spans);
-    }
-
-    /** Finds the next of all matches behind the one that ended at a place (NONE: the first). */
-    private boolean hunt(Program program, int before) {
-        int first = Math.max(before, 0);
-        int last = Math.min(first + 1, subject.length);
-        for (int from = first; from <= last; from++) {
-            int reached = marksFull ? GAVE_UP : marks.find(from);
-            if (reached == GAVE_UP) {
-                marksFull = true;
-                reached = threads.find(program, subject, SEARCH, from, spans);
-            }
-            if (reached == NONE) {
-                return false;
-            }
-            if (reached != before || spans[0] != before) {
-                return true;
-            }
+    /** Finds the next of all matches, by the marks that were begun, behind the one that ended at a place or NONE. */
+    private boolean hunt(int before) {
+        int reached = marks.find(Math.max(before, 0));
+        if (reached != NONE && reached == before && spans[0] == before) {
+            reached = before < subject.length ? marks.find(before + 1) : NONE;
         }
-        return false;
+        return reached != NONE;
     }
 
     /** Counts the call if it took more steps than the document allows. */
@@ -1521,8 +1503,6 @@ public final class PatternWorks {
 
     /** Goes one way after the other and marks what was tried at each place, so that nothing is tried twice. */
     private static final class Marks {
-        private static final int STACK_LIMIT = 32768;
-
         private int[] spans = new int[SPAN_LIMIT];
         private final int[] work = new int[SPAN_LIMIT];
         private int[] marks = new int[64];
@@ -1531,7 +1511,6 @@ public final class PatternWorks {
         private int[] stack = new int[64];
         private int depth;
         private boolean found;
-        private boolean full;
         private boolean firstOnly;
         private int how;
         private Program program;
@@ -1544,7 +1523,6 @@ public final class PatternWorks {
             this.how = how;
             this.spans = spans;
             firstOnly = how == WHOLE || !program.isOn(LONGEST);
-            full = false;
             words = program.count + 31 >> 5;
             dirtyFrom = from;
             int need = (subject.length + 1) * words;
@@ -1554,17 +1532,14 @@ public final class PatternWorks {
         }
 
         /**
-         * The match from a place on, or GAVE_UP. May be called again for places from the last match's end on:
-         * what was tried behind that end led nowhere and is not tried again.
+         * The match from a place on. May be called again for places from the last match's end on: what was
+         * tried behind that end led nowhere and is not tried again.
          */
         int find(int from) {
             found = false;
             int last = how == SEARCH ? subject.length : from;
-            for (int start = from; start <= last && !found && !full; start++) {
+            for (int start = from; start <= last && !found; start++) {
                 tryFrom(start);
-            }
-            if (full) {
-                return GAVE_UP;
             }
             if (!found) {
                 return NONE;
@@ -1582,7 +1557,7 @@ public final class PatternWorks {
             depth = 0;
             push(start << 10 | program.first);
             long most = 4L * program.count * (subject.length + 2);
-            for (long turn = 0; turn < most && depth > 0 && !full && !(found && firstOnly); turn++) {
+            for (long turn = 0; turn < most && depth > 0 && !(found && firstOnly); turn++) {
                 depth--;
                 int entry = stack[depth];
                 if (entry < 0) {
@@ -1598,7 +1573,7 @@ public final class PatternWorks {
             int state = begin;
             int place = beginPlace;
             int most = program.count * (subject.length + 1);
-            for (int turn = 0; turn < most && !full && mark(state, place); turn++) {
+            for (int turn = 0; turn < most && mark(state, place); turn++) {
                 int kind = program.kinds[state];
                 int value = program.other[state];
                 if (kind <= ANY_BYTE) {
@@ -1631,13 +1606,11 @@ public final class PatternWorks {
             found = true;
         }
 
+        /** Each mark brings one entry at most, so the stack grows no longer than the marks are many. */
         private void push(int entry) {
-            if (depth >= STACK_LIMIT) {
-                full = true;
-                return;
-            }
             if (depth >= stack.length) {
-                stack = Arrays.copyOf(stack, 2 * stack.length);
+                int most = program.count * (subject.length + 1) + 1;
+                stack = Arrays.copyOf(stack, Math.max(depth + 1, Math.min(most, 2 * stack.length)));
             }
             stack[depth] = entry;
             depth++;

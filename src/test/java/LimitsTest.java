@@ -138,7 +138,7 @@ public final class LimitsTest {
         Works.same(what + " over", works.it.over(), 0);
     }
 
-    /** Ways with so much left to try that the marks' stack runs over and the threads take its place. */
+    /** Ways with very much left to try. */
     private static void deepStacks() {
         Works works = new Works();
         works.subject("a".repeat(2000));
@@ -153,6 +153,10 @@ public final class LimitsTest {
         sameByAll(works, 2, "longest");
         works.compile(3, 0, "(?:(?:a??){90}a){2}");
         Works.same("how many", works.it.all(3), 1000);
+        works.compile(4, 0, "(?:(?:(?:a??){100}a??)*b|)");
+        Works.same("how many of nothing", works.it.all(4), 2001);
+        works.compile(4, 16, "(?:(?:()|a??){60}a)*|b");
+        Works.same("one", works.it.all(4), 1);
         Works.same("over", works.it.over(), 0);
     }
 

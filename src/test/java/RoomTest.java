@@ -6,9 +6,10 @@ public final class RoomTest {
     private static final long ROOM = 4L * 7300000;
 
     public static void main(String[] args) {
-        measure("small calls", RoomTest::smallCalls);
-        measure("dear calls", RoomTest::dearCalls);
-        measure("many patterns", RoomTest::manyPatterns);
+        measure("small calls", RoomTest::smallCalls, 4);
+        measure("dear calls", RoomTest::dearCalls, 4);
+        measure("many patterns", RoomTest::manyPatterns, 4);
+        measure("the longest stack", RoomTest::longestStack, 2);
         Works.finish("RoomTest");
     }
 
@@ -17,12 +18,12 @@ public final class RoomTest {
         return bean.getThreadAllocatedBytes(Thread.currentThread().getId());
     }
 
-    private static void measure(String what, Runnable run) {
+    private static void measure(String what, Runnable run, int part) {
         long before = made();
         run.run();
         long bytes = made() - before;
         System.out.println(what + ": " + bytes + " bytes");
-        Works.same(what + " stays below a quarter of the room", bytes < ROOM / 4 ? 1 : 0, 1);
+        Works.same(what + " stays below one of " + part + " parts of the room", bytes < ROOM / part ? 1 : 0, 1);
     }
 
     private static void smallCalls() {
@@ -47,6 +48,17 @@ public final class RoomTest {
             works.it.split(i % 6);
             works.it.which(63, i % 2 == 0);
             works.replace(i % 6, "$0");
+        }
+    }
+
+    private static void longestStack() {
+        Works works = new Works();
+        works.subject("a".repeat(2000));
+        works.compile(0, 0, "(?:a(){97}(){97}())*b|a*?$");
+        for (int machine = 0; machine < 5; machine++) {
+            Works.same("by " + machine, works.match(0, 0, machine, 0), "0-2000 - - -");
+            works.it.all(0);
+            works.it.which(1, true);
         }
     }
 
