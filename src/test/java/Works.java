@@ -5,6 +5,8 @@ final class Works {
     final PatternWorks it = new PatternWorks();
     private static int wrong = 0;
     private static int checked = 0;
+    private static String sentence = "";
+    private static int checkedBeforeIt = -1;
 
     static byte[] utf8(String text) {
         return text.getBytes(StandardCharsets.UTF_8);
@@ -15,14 +17,22 @@ final class Works {
         return text.getBytes(StandardCharsets.ISO_8859_1);
     }
 
-    static void same(String what, long got, long due) {
-        checked++;
-        if (got != due) {
+    /** The document's sentence that the checks from here on are for; each must have one. */
+    static void sentence(String words) {
+        endSentence();
+        sentence = words + ": ";
+        checkedBeforeIt = checked;
+    }
+
+    private static void endSentence() {
+        if (checked == checkedBeforeIt) {
             wrong++;
-            if (wrong <= 40) {
-                System.out.println(what + " answered " + got + ", due is " + due);
-            }
+            System.out.println(sentence + "nothing was looked at");
         }
+    }
+
+    static void same(String what, long got, long due) {
+        same(what, "" + got, "" + due);
     }
 
     static void same(String what, String got, String due) {
@@ -30,7 +40,7 @@ final class Works {
         if (!got.equals(due)) {
             wrong++;
             if (wrong <= 40) {
-                System.out.println(what + " answered " + got + ", due is " + due);
+                System.out.println(sentence + what + " answered " + got + ", due is " + due);
             }
         }
     }
@@ -52,6 +62,7 @@ final class Works {
     }
 
     static void finish(String test) {
+        endSentence();
         System.out.println(test + ": " + checked + " answers looked at, " + wrong + " wrong");
         if (wrong > 0 || checked == 0) {
             System.exit(1);
@@ -151,6 +162,102 @@ final class Works {
             all.append((char) it.output(i));
         }
         return it.output(length) == PatternWorks.NONE ? all.toString() : "the output is longer";
+    }
+
+    /** What a new object's compile() of this pattern says: how many groups, or the fault and its place. */
+    static void reads(String pattern, String due) {
+        same(pattern, new Works().compile(0, 0, utf8(pattern)), due);
+    }
+
+    static void readsRaw(String pattern, String due) {
+        same(pattern, new Works().compile(0, 0, raw(pattern)), due);
+    }
+
+    static void size(String pattern, int flags, int due) {
+        Works works = new Works();
+        same(pattern + " is read", works.compile(2, flags, pattern).startsWith("fault") ? 1 : 0, 0);
+        same("the size of " + pattern + " with " + flags, works.it.about(2, 1), due);
+    }
+
+    /** All machines must tell these spans of a match; the subject is bytes. */
+    static void matches(String pattern, int flags, String subject, int how, int from, String due) {
+        Works works = new Works();
+        same(pattern + " is read", works.compile(0, flags, pattern).startsWith("fault") ? 1 : 0, 0);
+        works.subject(raw(subject));
+        for (int machine = 0; machine < 5; machine++) {
+            same(pattern + " with " + flags + " on " + subject + " how " + how + " from " + from + " by " + machine,
+                works.match(0, how, machine, from), due);
+        }
+    }
+
+    static void finds(String pattern, String subject, String due) {
+        matches(pattern, 0, subject, 0, 0, due);
+    }
+
+    /** The pattern as a whole takes the subject as a whole. */
+    static void takes(String pattern, String subject) {
+        matchesWhole(pattern, 0, subject, true);
+    }
+
+    static void takesNot(String pattern, String subject) {
+        matchesWhole(pattern, 0, subject, false);
+    }
+
+    static void matchesWhole(String pattern, int flags, String subject, boolean due) {
+        Works works = new Works();
+        same(pattern + " is read", works.compile(0, flags, pattern).startsWith("fault") ? 1 : 0, 0);
+        works.subject(subject);
+        for (int machine = 0; machine < 5; machine++) {
+            int end = works.it.match(0, 2, machine, 0);
+            same(pattern + " with " + flags + " on the whole of " + subject + " by " + machine, end,
+                due ? utf8(subject).length : PatternWorks.NONE);
+        }
+        same(pattern + " with " + flags + " on the whole of " + subject, works.it.which(1, true), due ? 1 : 0);
+    }
+
+    /** Which characters from one to another a pattern for one character takes, as ranges "48-57 65-90". */
+    static String taken(String pattern, int flags, int from, int to) {
+        StringBuilder ranges = new StringBuilder();
+        int begin = -1;
+        for (int low = from; low <= to; low += 400) {
+            Works works = new Works();
+            works.compile(0, flags, pattern);
+            int high = Math.min(to, low + 399);
+            StringBuilder text = new StringBuilder();
+            for (int code = low; code <= high; code++) {
+                text.appendCodePoint(isCharacter(code) ? code : 0xFFFD);
+            }
+            works.subject(text.toString());
+            java.util.Set<Integer> begins = new java.util.HashSet<>();
+            int count = works.it.all(0);
+            for (int i = 0; i < count; i++) {
+                begins.add(works.it.found(i, 0));
+            }
+            int place = 0;
+            for (int code = low; code <= high; code++) {
+                boolean has = isCharacter(code) && begins.contains(place);
+                place += utf8(new String(Character.toChars(isCharacter(code) ? code : 0xFFFD))).length;
+                if (has && begin < 0) {
+                    begin = code;
+                }
+                if (begin >= 0 && !has) {
+                    ranges.append(' ').append(range(begin, code - 1));
+                    begin = -1;
+                }
+            }
+        }
+        if (begin >= 0) {
+            ranges.append(' ').append(range(begin, to));
+        }
+        return ranges.toString().trim();
+    }
+
+    static boolean isCharacter(int code) {
+        return code < 0xD800 || code > 0xDFFF;
+    }
+
+    private static String range(int low, int high) {
+        return low == high ? "" + low : low + "-" + high;
     }
 
     String replace(int slot, String template) {
