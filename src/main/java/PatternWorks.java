@@ -112,8 +112,8 @@ public final class PatternWorks {
     private static final int[] ALIKE_FOURS = {75, 107, 8490, 8490, 83, 115, 383, 383, 197, 229, 8491, 8491,
         181, 924, 956, 956, 930, 931, 962, 963};
 
-    /** Where the characters change their width in bytes or what assertions make of them. */
-    private static final int[] FIXED_CUTS = {0, 10, 11, 48, 58, 65, 91, 95, 96, 97, 123, 128, 2048, 65536};
+    /** Where characters begin that are lines' ends, of words, of more than one byte, or no longer that. */
+    private static final int[] FIXED_CUTS = {0, 10, 11, 48, 58, 65, 91, 95, 96, 97, 123, 128};
 
     private final int[] ready = new int[READY_BYTES];
     private final Row tape = new Row(TAPE_LIMIT);

@@ -38,26 +38,10 @@ public final class EdgesOfCallsTest {
         Works.finish("EdgesOfCallsTest");
     }
 
-    /** What is on the tape, as characters 0 to 255; the tape is empty then and the output is it. */
-    private static String tape(Works works) {
-        int length = works.it.end(0);
-        int quoted = works.it.quote();
-        StringBuilder all = new StringBuilder();
-        for (int i = 0; i < quoted; i++) {
-            int item = works.it.output(i);
-            if (item == '\\') {
-                i++;
-                item = works.it.output(i);
-            }
-            all.append((char) item);
-        }
-        return all.length() == length ? all.toString() : "the tape has " + length;
-    }
-
     private static void newObject() {
         Works.sentence("Promise 1: No patterns; subject, tape and output are empty");
         Works works = new Works();
-        PatternWorks it = works.it;
+        Counted it = works.it;
         for (int slot = 0; slot < 6; slot++) {
             int none = slot;
             for (int what = 0; what < 3; what++) {
@@ -90,29 +74,29 @@ public final class EdgesOfCallsTest {
         for (int i = 0; i < 20; i++) {
             counted.append((char) i);
         }
-        Works.same("twenty bytes", tape(works), counted.toString());
+        Works.same("twenty bytes", works.tapeLike(counted.toString()), counted.toString());
         works.it.feed(-1, LEAST, MOST, 0x80, 0xFF000000);
         works.it.end(20);
-        Works.same("bytes above 127", tape(works), "\u00FF\u00FF\u00FF\u00FF\u0080\0\0\0\u007F\u00FF\u00FF\u00FF\0\0\0\u0080\u00FF\0\0\0");
+        Works.same("bytes above 127", works.tapeLike("\u00FF\u00FF\u00FF\u00FF\u0080\0\0\0\u007F\u00FF\u00FF\u00FF\0\0\0\u0080\u00FF\0\0\0"), "\u00FF\u00FF\u00FF\u00FF\u0080\0\0\0\u007F\u00FF\u00FF\u00FF\0\0\0\u0080\u00FF\0\0\0");
         works.it.feed(0x61616161, 0x61616161, 0x61616161, 0x61616161, 0x61616161);
         works.it.feed(0x62000000, 0, 0, 0, 0);
         works.it.end(3);
-        Works.same("the latest feed counts", tape(works), "b\0\0");
+        Works.same("the latest feed counts", works.tapeLike("b\0\0"), "b\0\0");
         works.it.feed(0x61626364, 0x65666768, 0, 0, 0);
         works.it.end(5);
-        Works.same("the first n", tape(works), "abcde");
+        Works.same("the first n", works.tapeLike("abcde"), "abcde");
         Works.sentence("Promise 2: (They are 0 at first, and behind each end() that answers a number.)");
         Works fresh = new Works();
         Works.same("twenty", fresh.it.end(20), 20);
-        Works.same("0 at first", tape(fresh), "\0".repeat(20));
+        Works.same("0 at first", fresh.tapeLike("\0".repeat(20)), "\0".repeat(20));
         fresh.it.feed(0x61626364, 0x65666768, 0, 0, 0);
         fresh.it.end(1);
         fresh.it.end(3);
-        Works.same("0 behind an end()", tape(fresh), "a\0\0\0");
+        Works.same("0 behind an end()", fresh.tapeLike("a\0\0\0"), "a\0\0\0");
         fresh.it.feed(0x61626364, 0, 0, 0, 0);
         Works.same("an end of none", fresh.it.end(0), 0);
         fresh.it.end(2);
-        Works.same("0 behind an end(0)", tape(fresh), "\0\0");
+        Works.same("0 behind an end(0)", fresh.tapeLike("\0\0"), "\0\0");
         fresh.it.feed(0x61626364, 0, 0, 0, 0);
         Works.same("refused", fresh.it.end(-1), NONE);
         Works.same("refused", fresh.it.end(21), NONE);
@@ -120,13 +104,13 @@ public final class EdgesOfCallsTest {
         fresh.it.quote();
         Works.refused("no slot", () -> fresh.it.compile(6, 0));
         fresh.it.end(2);
-        Works.same("they stay behind an end() that answers none, and behind other calls", tape(fresh), "ab");
+        Works.same("they stay behind an end() that answers none, and behind other calls", fresh.tapeLike("ab"), "ab");
         Works full = new Works();
         full.put("x".repeat(1999));
         full.it.feed(0x61626364, 0, 0, 0, 0);
         Works.same("too many", full.it.end(2), NONE);
         full.it.end(1);
-        Works.same("they stay when the tape is full", tape(full), "x".repeat(1999) + "a");
+        Works.same("they stay when the tape is full", full.tapeLike("x".repeat(1999) + "a"), "x".repeat(1999) + "a");
     }
 
     private static void end() {
@@ -156,7 +140,7 @@ public final class EdgesOfCallsTest {
         Works.same("2001", full.it.end(20), NONE);
         Works.same("2000", full.it.end(19), 2000);
         Works.same("2001", full.it.end(1), NONE);
-        Works.same("what came", tape(full), "x".repeat(1981) + "\0".repeat(19));
+        Works.same("what came", full.tapeLike("x".repeat(1981) + "\0".repeat(19)), "x".repeat(1981) + "\0".repeat(19));
         Works.same("empty again", full.it.end(20), 20);
     }
 
@@ -620,56 +604,29 @@ public final class EdgesOfCallsTest {
             Works.same("the output stays", works.output(4), "xaay");
         }
         Works.sentence("Promise 13: or more than 6000 bytes would come (the output stays)");
-        Works full = new Works();
-        full.subject("a".repeat(2000));
-        full.compile(0, 0, "a");
-        full.compile(1, 0, "a*");
-        full.compile(2, 0, "a{100}");
-        full.compile(3, 0, "(a)$");
-        Works.same("6000", full.replace(0, "abc").length(), 6000);
-        Works.same("the last", full.it.output(5999), 'c');
-        refusedForLength(full, 0, "abcd");
-        refusedForLength(full, 0, "$0$0$0$0");
-        Works.same("6000 by a group", full.replace(1, "$0$0$0").length(), 6000);
-        full.replace(0, "abc");
-        refusedForLength(full, 1, "$0$0$0.");
-        refusedForLength(full, 1, ".$0$0$0");
-        Works.same("6000", full.replace(2, "x".repeat(300)).length(), 6000);
-        full.replace(0, "abc");
-        refusedForLength(full, 2, "x".repeat(301));
-        Works.same("a long end", full.replace(3, "x".repeat(2000)).length(), 3999);
-        Works ends = new Works();
-        ends.subject("a".repeat(1000));
-        ends.compile(1, 0, "^a{100}");
-        Works.same("what is behind the last match counts", ends.replace(1, "x".repeat(2000)).length(), 2900);
-        ends.compile(3, 0, "a{100}");
-        Works.same("of 5000", ends.replace(3, "x".repeat(500)).length(), 5000);
-        Works.same("of 6000", ends.replace(3, "x".repeat(600)).length(), 6000);
-        refusedStill(ends, 3, "x".repeat(601), "x");
-        ends.subject("a".repeat(900) + "b".repeat(600));
-        Works.same("6000 with an end", ends.replace(3, "x".repeat(600)).length(), 6000);
-        ends.subject("a".repeat(900) + "b".repeat(601));
-        refusedStill(ends, 3, "x".repeat(600), "b");
-        ends.subject("b".repeat(600) + "a".repeat(900));
-        Works.same("6000 with a beginning", ends.replace(3, "x".repeat(600)).length(), 6000);
-        ends.subject("b".repeat(601) + "a".repeat(900));
-        refusedStill(ends, 3, "x".repeat(600), "x");
+        tooLong("a", 0, "a".repeat(2000), "abc", "abcd", "abc".repeat(2000));
+        tooLong("a", 0, "a".repeat(2000), "$0$0$0", "$0$0$0$0", "a".repeat(6000));
+        tooLong("(a*)", 0, "a".repeat(2000), "$0$1$0", "$0$0$1.", "a".repeat(6000));
+        tooLong("a*", 0, "a".repeat(2000), "$0$0$0", ".$0$0$0", "a".repeat(6000));
+        tooLong("(?P<n>a*)", 0, "a".repeat(2000), "${n}$1$0", "$0$$$0${n}", "a".repeat(6000));
+        tooLong("", 0, "a".repeat(352), "$0" + "x".repeat(16), "x".repeat(17), "x".repeat(16) + ("a" + "x".repeat(16)).repeat(352));
+        tooLong("a{100}", 0, "a".repeat(1000), "x".repeat(600), "x".repeat(601), "x".repeat(6000));
+        tooLong("a{100}", 0, "a".repeat(900) + "b".repeat(600), "x".repeat(600), "x".repeat(601), "x".repeat(5400) + "b".repeat(600));
+        tooLong("a{100}", 0, "b".repeat(600) + "a".repeat(900), "x".repeat(600), "x".repeat(601), "b".repeat(600) + "x".repeat(5400));
+        tooLong("^a{5}$|x", 0, "a".repeat(5), "$0" + "y".repeat(1990), "$", "a".repeat(5) + "y".repeat(1990));
     }
 
-    private static void refusedForLength(Works works, int slot, String template) {
-        works.put(template);
-        Works.refused(template, () -> works.it.replace(slot));
+    /** The first template makes the longest output that may be; the second is refused, and that output stays. */
+    private static void tooLong(String pattern, int flags, String subject, String fits, String refused, String due) {
+        Works works = new Works();
+        works.compile(0, flags, pattern);
+        works.subject(subject);
+        Works.same("the length", works.replaceLength(0, fits), "" + due.length());
+        Works.same("the output", works.outputLike(due), due);
+        works.put(refused);
+        Works.refused("too much by " + pattern, () -> works.it.replace(0));
         Works.same("the tape is empty", works.it.end(0), 0);
-        Works.same("the output stays", works.output(6000), "abc".repeat(2000));
-    }
-
-    /** The output of 6000 bytes that was there before stays. */
-    private static void refusedStill(Works works, int slot, String template, String last) {
-        works.put(template);
-        Works.refused(template.length() + " bytes", () -> works.it.replace(slot));
-        Works.same("the tape is empty", works.it.end(0), 0);
-        Works.same("the output stays", works.it.output(5999), last.charAt(0));
-        Works.same("the output stays", works.it.output(6000), NONE);
+        Works.same("the output stays", works.outputLike(due), due);
     }
 
     private static void split(String pattern, String subject, String due) {
@@ -827,14 +784,14 @@ public final class EdgesOfCallsTest {
         Works.sentence("Promise 17: as output: its length");
         Works works = new Works();
         Works.same("of nothing", works.it.quote(), 0);
-        works.put("a-".repeat(1000));
-        Works.same("half of them", works.it.quote(), 3000);
+        works.put("a-".repeat(500));
+        Works.same("half of them", works.it.quote(), 1500);
         works.put("\\".repeat(2000));
         Works.same("the longest", works.it.quote(), 4000);
         Works.same("its last", works.it.output(3999), '\\');
-        works.put("a".repeat(2000));
-        Works.same("as long as the tape", works.it.quote(), 2000);
-        Works.same("nothing of the one before", works.it.output(2000), NONE);
+        works.put("a".repeat(1000));
+        Works.same("as long as the tape", works.it.quote(), 1000);
+        Works.same("nothing of the one before", works.it.output(1000), NONE);
         Works.same("of nothing again", works.it.quote(), 0);
         Works.same("no output", works.it.output(0), NONE);
     }
@@ -863,64 +820,82 @@ public final class EdgesOfCallsTest {
         works.it.quote();
         Works.same("a quote is the output", works.output(1), "q");
         works.subject("y".repeat(2000));
-        works.replace(0, "abc");
+        Works.same("the longest", works.replaceLength(0, "abc"), "6000");
         Works.same("the last of the longest", works.it.output(5999), 'c');
         Works.same("behind it", works.it.output(6000), NONE);
     }
 
     private static void keep() {
         Works.sentence("Promise 19: (4 .. 64; at first 32): nothing that is told hangs on it");
-        Works works = new Works();
-        works.compile(0, 0, "(?:a|b)*a(?:a|b){7}$");
-        works.compile(1, 0, "(a|b)*?a(a|b){3}\\b");
-        works.subject("abbabaaabbbababbbabaabbbbaabbabab".repeat(20));
-        String[] due = {works.match(0, 0, 2, 0), works.match(1, 0, 2, 0)};
-        for (int states : new int[] {4, 64, 5, 63, 32, 4}) {
-            works.it.keep(states);
-            for (int machine = 0; machine < 5; machine++) {
-                Works.same("with " + states + " by " + machine, works.match(0, 0, machine, 0), due[0]);
-                Works.same("with " + states + " by " + machine, works.match(1, 0, machine, 0), due[1]);
-            }
-            Works.same("with " + states, works.it.which(3, false), 3);
-            Works.same("with " + states, works.it.which(3, true), 1 + (works.it.match(1, 2, 2, 0) == NONE ? 0 : 2));
+        String due = keeping(32);
+        for (int states : new int[] {4, 5, 31, 32, 33, 63, 64}) {
+            Works.same("with " + states, keeping(states), due);
         }
         Works.sentence("Promise 19: IllegalArgumentException: another number");
+        Works works = new Works();
+        works.compile(0, 0, "(?:a|b)*a(?:a|b){7}$");
+        works.subject("abbabaaabbbababbbabaabbbbaabbabab");
+        String told = works.match(0, 0, 4, 0);
         for (int states : new int[] {3, 65, 0, -1, 2, 66, -4, LEAST, MOST}) {
             Works.refused("keep(" + states + ")", () -> works.it.keep(states));
-            Works.same("nothing hangs on it", works.match(0, 0, 4, 0), due[0]);
+            Works.same("nothing hangs on it", works.match(0, 0, 4, 0), told);
         }
         works.it.keep(4);
+        Works.refused("keep(3)", () -> works.it.keep(3));
         works.it.keep(64);
+        Works.refused("keep(65)", () -> works.it.keep(65));
+        Works.same("nothing hangs on it", works.match(0, 0, 4, 0), told);
         Works.same("over", works.it.over(), 0);
+    }
+
+    /** What is told of patterns that need many states, when so many are kept. */
+    private static String keeping(int states) {
+        Works works = new Works();
+        works.it.keep(states);
+        works.compile(0, 0, "(?:a|b)*a(?:a|b){7}$");
+        works.compile(1, 0, "(a|b)*?a(a|b){3}\\b");
+        works.compile(2, 0, "(?:a|b)*b(?:a|b){6}c");
+        works.subject("abbabaaabbbababbbabaabbbbaabbabab".repeat(10));
+        StringBuilder told = new StringBuilder();
+        for (int slot = 0; slot < 3; slot++) {
+            String first = works.match(slot, 0, 2, 0);
+            told.append(first);
+            for (int machine = 0; machine < 5; machine++) {
+                Works.same("with " + states + " by " + machine, works.match(slot, 0, machine, 0), first);
+            }
+            Works.same("whole with " + states, works.it.match(slot, 2, 4, 0), works.it.match(slot, 2, 1, 0));
+        }
+        told.append(' ').append(works.it.which(7, false)).append(' ').append(works.it.which(7, true));
+        return told.toString();
     }
 
     private static void over() {
         Works.sentence("Promise 20: always 0");
-        Works works = new Works();
-        Works.same("at first", works.it.over(), 0);
-        works.compile(0, 0, "(?:(?:a{0,10}){0,10}b|a)*$");
-        works.compile(1, 0, "((a*)*|(a*)*)*b");
-        works.compile(2, 16, "(a|aa|aaa)*?(?:a{0,50}){0,3}");
-        works.compile(3, 0, "(?:a*b)?");
-        works.compile(4, 0, "(?:(?:|){30}a??)*c|");
-        works.compile(5, 0, "a{100}");
-        works.subject("a".repeat(2000));
-        for (int slot = 0; slot < 6; slot++) {
+        Works.same("at first", new Works().it.over(), 0);
+        String[] steep = {"(?:(?:a{0,10}){0,10}b|a)*$", "((a*)*|(a*)*)*b", "(a|aa|aaa)*?(?:a{0,50}){0,3}", "(?:a*b)?",
+            "(?:(?:|){30}a??)*c|", "a{100}"};
+        Works every = new Works();
+        every.subject("a".repeat(2000));
+        for (int slot = 0; slot < steep.length; slot++) {
+            every.compile(slot, slot == 2 ? 16 : 0, steep[slot]);
+            Works works = new Works();
+            works.compile(slot, slot == 2 ? 16 : 0, steep[slot]);
+            works.subject("a".repeat(2000));
             for (int machine = 0; machine < 5; machine++) {
                 for (int how = 0; how < 3; how++) {
                     works.it.match(slot, how, machine, 0);
                 }
             }
-            Works.same("behind match()", works.it.over(), 0);
+            Works.same("behind match() of " + steep[slot], works.it.over(), 0);
             works.it.all(slot);
             works.it.split(slot);
-            works.replace(slot, "");
-            Works.same("behind all(), split() and replace()", works.it.over(), 0);
+            works.replaceLength(slot, "");
+            Works.same("behind all(), split() and replace() of " + steep[slot], works.it.over(), 0);
         }
-        works.it.keep(4);
-        works.it.which(63, false);
-        works.it.which(63, true);
-        Works.same("behind which()", works.it.over(), 0);
+        every.it.keep(4);
+        every.it.which(63, false);
+        every.it.which(63, true);
+        Works.same("behind which()", every.it.over(), 0);
     }
 
     /** Nothing of one object is another one's. */
@@ -944,6 +919,6 @@ public final class EdgesOfCallsTest {
             two.it.fault(1), two.it.end(0)};
         Works.same("the other", Arrays.toString(got), Arrays.toString(due));
         two.it.end(1);
-        Works.same("its bytes", tape(two), "\0");
+        Works.same("its bytes", two.tapeLike("\0"), "\0");
     }
 }

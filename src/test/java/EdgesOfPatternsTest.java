@@ -211,6 +211,22 @@ public final class EdgesOfPatternsTest {
         Works.matches("^$", 2, "a\nb", 0, 0, "none");
         Works.matches("(?m)^", 0, "a\n", 0, 1, "2-2");
         Works.matches("(?-m)^", 2, "a\n", 0, 1, "none");
+        for (int item = 0; item < 256; item++) {
+            Works works = new Works();
+            works.compile(0, 2, "a$");
+            works.compile(1, 2, "^a");
+            works.compile(2, 0, "a$");
+            works.compile(3, 0, "^a");
+            works.subject(Works.raw("a" + (char) item + "a-"));
+            boolean line = item == 10;
+            for (int machine = 0; machine < 5; machine++) {
+                Works.same("$ ahead of " + item + " by " + machine, works.it.match(0, 0, machine, 0), line ? 1 : -1);
+                Works.same("^ behind " + item + " by " + machine, works.it.match(1, 0, machine, 1), line ? 3 : -1);
+                Works.same("$ without m by " + machine, works.it.match(2, 0, machine, 0), -1);
+                Works.same("^ without m by " + machine, works.it.match(3, 0, machine, 1), -1);
+            }
+            Works.same("which at " + item, works.it.which(15, false), line ? 11 : 10);
+        }
     }
 
     private static void numbersOfGroups() {
@@ -313,6 +329,13 @@ public final class EdgesOfPatternsTest {
             Works.same("\\B around " + item, works.all(1), word ? "0-0 3-3" : "0-0 1-1 2-2 3-3");
             works.subject(Works.raw("a" + (char) item));
             Works.same("\\b behind a and " + item, works.all(0), word ? "0-0 2-2" : "0-0 1-1");
+            works.subject(Works.raw("" + (char) item));
+            for (int machine = 0; machine < 5; machine++) {
+                Works.same("\\b ahead of " + item + " by " + machine, works.it.match(0, 1, machine, 0), word ? 0 : -1);
+                Works.same("\\b behind " + item + " by " + machine, works.it.match(0, 1, machine, 1), word ? 1 : -1);
+                Works.same("\\B ahead of " + item + " by " + machine, works.it.match(1, 1, machine, 0), word ? -1 : 0);
+            }
+            Works.same("which of \\b and \\B at " + item, works.it.which(3, false), word ? 1 : 2);
         }
         Works.finds("\\b", "", "none");
         Works.finds("\\b", "--", "none");

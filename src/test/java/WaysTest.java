@@ -30,10 +30,10 @@ public final class WaysTest {
         Works works = new Works();
         for (int round = 0; round < rounds && Works.wrongSoFar() < 20; round++) {
             // Rows that have grown hide what short ones show, so most objects are new.
-            works = CHANCE.nextInt(4) == 0 ? works : new Works();
+            works = CHANCE.nextInt(4) == 0 && works.it.left() > 100 ? works : new Works();
             byte[] pattern = pattern(round);
             int flags = CHANCE.nextInt(3) == 0 ? CHANCE.nextInt(32) : CHANCE.nextInt(4) == 0 ? 16 : 0;
-            tryPattern(works, pattern, flags);
+            works = tryPattern(works, pattern, flags);
         }
         System.out.println(runs + " runs, " + refusals + " refused patterns, " + skipped + " runs too long to be told");
         Works.finish("WaysTest");
@@ -121,7 +121,9 @@ public final class WaysTest {
         return all.toString();
     }
 
-    private static void tryPattern(Works works, byte[] pattern, int flags) {
+    /** Tries a pattern on some subjects, by an object with calls left or by new ones: the last of them. */
+    private static Works tryPattern(Works first, byte[] pattern, int flags) {
+        Works works = first;
         String what = "'" + told(pattern) + "' flags " + flags;
         Oracle oracle;
         int slot = CHANCE.nextInt(6);
@@ -130,17 +132,21 @@ public final class WaysTest {
         } catch (Oracle.Fault fault) {
             refusals++;
             Works.same(what, works.compile(slot, flags, pattern), "fault " + fault.kind + " at " + fault.place);
-            return;
+            return works;
         }
         Works.same(what, works.compile(slot, flags, pattern), "" + oracle.groups);
         if (works.it.fault(0) != 0) {
-            return;
+            return works;
         }
         Works.same(what + " fault", works.it.fault(1), -1);
         Works.same(what + " size", works.it.about(slot, 1), (long) oracle.size);
         Works.same(what + " flags", works.it.about(slot, 2), flags);
         for (int i = 0; i < 4; i++) {
             byte[] subject = subject();
+            if (works.it.left() < callsFor(oracle.groups)) {
+                works = new Works();
+                works.compile(slot, flags, pattern);
+            }
             works.subject(subject);
             oracle.subject(subject);
             if (CHANCE.nextInt(10) == 0) {
@@ -157,6 +163,12 @@ public final class WaysTest {
             Works.same(what + " over", works.it.over(), 0);
             runs++;
         }
+        return works;
+    }
+
+    /** At least as many calls as a subject takes: fifteen matches with their groups, and all matches with some bytes each. */
+    private static int callsFor(int groups) {
+        return 15 * (5 + 2 * groups) + 230;
     }
 
     private static void tryMatches(Works works, Oracle oracle, int slot, int length, String what) {

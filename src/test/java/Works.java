@@ -2,7 +2,9 @@ import java.nio.charset.StandardCharsets;
 
 /** Checks and short forms that the tests share: texts go to the tape as UTF-8, or byte by byte. */
 final class Works {
-    final PatternWorks it = new PatternWorks();
+    final Counted it = new Counted();
+    /** So many characters come to the tape and are looked for in far less than 512 calls. */
+    private static final int CHUNK = 200;
     private static int wrong = 0;
     private static int checked = 0;
     private static String sentence = "";
@@ -40,9 +42,13 @@ final class Works {
         if (!got.equals(due)) {
             wrong++;
             if (wrong <= 40) {
-                System.out.println(sentence + what + " answered " + got + ", due is " + due);
+                System.out.println(sentence + brief(what) + " answered " + brief(got) + ", due is " + brief(due));
             }
         }
+    }
+
+    private static String brief(String text) {
+        return text.length() <= 300 ? text : text.substring(0, 300) + " ..";
     }
 
     static void refused(String what, Runnable call) {
@@ -164,6 +170,30 @@ final class Works {
         return it.output(length) == PatternWorks.NONE ? all.toString() : "the output is longer";
     }
 
+    /** What is due, if the output is that; of a long one some bytes are looked at, as calls are few. */
+    String outputLike(String due) {
+        int step = due.length() < 40 ? 1 : due.length() / 20;
+        for (int i = 0; i < due.length(); i++) {
+            boolean looked = i % step == 0 || i < 4 || i >= due.length() - 4;
+            if (looked && it.output(i) != due.charAt(i)) {
+                return "byte " + i + " is " + it.output(i);
+            }
+        }
+        return it.output(due.length()) == PatternWorks.NONE ? due : "the output is longer";
+    }
+
+    /** What is due, if the tape is that; it is empty then. */
+    String tapeLike(String due) {
+        StringBuilder quoted = new StringBuilder();
+        for (char item : due.toCharArray()) {
+            boolean word = item < 128 && (Character.isLetterOrDigit(item) || item == '_');
+            quoted.append(word || item > 127 ? "" : "\\").append(item);
+        }
+        int length = it.quote();
+        String like = outputLike(quoted.toString());
+        return length == quoted.length() && like.equals(quoted.toString()) ? due : "of length " + length + ": " + like;
+    }
+
     /** What a new object's compile() of this pattern says: how many groups, or the fault and its place. */
     static void reads(String pattern, String due) {
         same(pattern, new Works().compile(0, 0, utf8(pattern)), due);
@@ -219,10 +249,10 @@ final class Works {
     static String taken(String pattern, int flags, int from, int to) {
         StringBuilder ranges = new StringBuilder();
         int begin = -1;
-        for (int low = from; low <= to; low += 400) {
+        for (int low = from; low <= to; low += CHUNK) {
             Works works = new Works();
             works.compile(0, flags, pattern);
-            int high = Math.min(to, low + 399);
+            int high = Math.min(to, low + CHUNK - 1);
             StringBuilder text = new StringBuilder();
             for (int code = low; code <= high; code++) {
                 text.appendCodePoint(isCharacter(code) ? code : 0xFFFD);
@@ -264,6 +294,16 @@ final class Works {
         put(raw(template));
         try {
             return output(it.replace(slot));
+        } catch (IllegalArgumentException e) {
+            return "refused";
+        }
+    }
+
+    /** How long the output is, or "refused". */
+    String replaceLength(int slot, String template) {
+        put(raw(template));
+        try {
+            return "" + it.replace(slot);
         } catch (IllegalArgumentException e) {
             return "refused";
         }
