@@ -63,6 +63,27 @@ public final class EdgesOfCallsTest {
         Works.refused("no place 1 in it", () -> it.match(0, 0, 0, 1));
         Works.same("the empty template", it.replace(0), 0);
         Works.same("NONE", PatternWorks.NONE, -1);
+        for (String pattern : new String[] {"^$", "\\A\\z", "\\B", "(?m)^", "(?m)$", "(?:a|b)*"}) {
+            emptyAtFirst(pattern, "0-0");
+        }
+        for (String pattern : new String[] {"\\b", "(?s).", "\\C", "\\x00", "[^a]", "a"}) {
+            emptyAtFirst(pattern, "none");
+        }
+    }
+
+    /** A pattern in the subject of an object that was given none. */
+    private static void emptyAtFirst(String pattern, String due) {
+        Works works = new Works();
+        works.compile(0, 0, pattern);
+        for (int machine = 0; machine < 5; machine++) {
+            for (int how = 0; how < 3; how++) {
+                Works.same(pattern + " how " + how + " by " + machine, works.match(0, how, machine, 0), due);
+            }
+        }
+        Works.same(pattern + " which", works.it.which(1, false), due.equals("none") ? 0 : 1);
+        Works.same(pattern + " which whole", works.it.which(1, true), due.equals("none") ? 0 : 1);
+        Works.same(pattern + " all", works.all(0), due.equals("none") ? "" : due);
+        Works.same(pattern + " split", works.split(0), "0-0");
     }
 
     private static void feed() {

@@ -13,6 +13,7 @@ public final class EdgesOfFaultsTest {
         counts();
         heads();
         limitsOfGroups();
+        cutOffs();
         tooBig();
         sizesOfParts();
         sizesOfClasses();
@@ -182,6 +183,9 @@ public final class EdgesOfFaultsTest {
         fault(6, 1, "[\\x62-\\x61]");
         fault(6, 1, "[\\x{100}-\u00C3\u00BF]");
         fault(6, 1, "[a-[]");
+        fault(6, 1, "[a-\\x00]");
+        fault(6, 1, "[\\x01-\0]");
+        fine("[\\x00-\0]");
         fault(6, 1, "[]-\\[]");
         fault(6, 1, "[--+]");
         fault(6, 4, "[a-b--+]");
@@ -391,6 +395,23 @@ public final class EdgesOfFaultsTest {
         fault(13, 110, nine + DEEP.substring(3) + "(");
     }
 
+    /** What was on the tape before, behind the end of the pattern, is nothing of it. */
+    private static void cutOffs() {
+        Works.sentence("(also cut off by the pattern's end)");
+        String[] whole = {"a[[:^digit:][:alpha:]]", "(?P<abcdefghijkl>a){2,3}?", "(?i-ms:a)(?U)", "\\x{10FFFF}\\x41\\pL\\P", "[a-\\x{61}]*?",
+            "((?P<n>a)|[^]a-z])+", "a{12,100}b{3}c{0,}", "(?P<n>a)(?P<m>b)(?P<nm>c)", "\u00E9\u20AC[\u00E9-\u20AC]"};
+        for (String text : whole) {
+            byte[] all = Works.utf8(text);
+            for (int length = 0; length < all.length; length++) {
+                byte[] cut = java.util.Arrays.copyOf(all, length);
+                Works works = new Works();
+                works.compile(0, 0, all);
+                Works.same(new String(cut, java.nio.charset.StandardCharsets.ISO_8859_1) + " behind " + text, works.compile(0, 0, cut),
+                    new Works().compile(0, 0, cut));
+            }
+        }
+    }
+
     private static void tooBig() {
         Works.sentence("Behind all: 14, place NONE: SIZE above 400");
         fine("a".repeat(400));
@@ -479,6 +500,9 @@ public final class EdgesOfFaultsTest {
         Works.size("[^\\x00-\\x{D7FF}]", 0, 6);
         Works.size("[^\\x{E000}-\\x{10FFFF}]", 0, 6);
         Works.size("[^\\x00]", 0, 10);
+        Works.size("[^\\x00-\\x{10FFFF}]", 0, 2);
+        Works.size("[^\\x00-\\x{10FFFE}]", 0, 6);
+        Works.size("[^\\x01-\\x{10FFFF}]", 0, 6);
         Works.size("[^\\x{10FFFF}]", 0, 10);
         Works.size("\\D", 0, 14);
         Works.size("[^\\D]", 0, 6);

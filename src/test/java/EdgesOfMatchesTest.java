@@ -17,6 +17,7 @@ public final class EdgesOfMatchesTest {
         whole();
         longest();
         allMatches();
+        slotsUsedAgain();
         fullSubjects();
         Works.finish("EdgesOfMatchesTest");
     }
@@ -150,6 +151,8 @@ public final class EdgesOfMatchesTest {
         Works.matches("\\C", 0, "\u00C3\u00A9", SEARCH, 1, "1-2");
         Works.matches("$", 0, "\u00C3\u00A9", SEARCH, 0, "2-2");
         Works.matches("\\B\\C$", 0, "\u00C3\u00A9", SEARCH, 0, "1-2");
+        Works.matches("(?:\u00E9|\u00E9|\u00E9|\u00E9|\u00E9)x|\\C\\b", 0, "\u00C3\u00A9a", SEARCH, 0, "1-2");
+        Works.matches("(?:\u20AC|[\u20AC]|.|\\W)x|\\Ca", 0, "\u00E2\u0082\u00ACa", SEARCH, 0, "2-4");
         Works.matches("abc|b", 0, "xabc", SEARCH, 0, "1-4");
         Works.matches("b|abc", 0, "xabc", SEARCH, 0, "1-4");
         Works.matches("^a", 0, "aa", SEARCH, 1, "none");
@@ -245,9 +248,49 @@ public final class EdgesOfMatchesTest {
         all("b|", 0, "abb", "0-0 1-2 2-3");
         all("\u00E9|", 0, "\u00C3\u00A9a", "0-2 3-3");
         all(".|", 0, "\u00FFa", "0-0 1-2");
+        all("a|(?:|b)", 0, "ab", "0-1 2-2");
+        all("a|b??", 0, "ab", "0-1 2-2");
+        all("a|b??", LONGEST, "ab", "0-1 1-2");
+        all("ab??|c??", 0, "abc", "0-1 2-2 3-3");
+        all("(?:a|b??)*?", 0, "ab", "0-0 1-1 2-2");
+        all("a|\\B|b", 0, "aab", "0-1 1-2");
+        all("a|\\B|b", 0, "abb", "0-1 2-2");
         Works.sentence("|a on a has two, of nothing, at 0 and 1");
         all("|a", 0, "a", "0-0 1-1");
         all("|a", LONGEST, "a", "0-1");
+    }
+
+    /** Whatever pattern and subject were there before, the match is that of those that are there now. */
+    private static void slotsUsedAgain() {
+        Works.sentence("A MATCH of a slot's pattern in the subject: whatever was there before");
+        String[] patterns = {"a(b)c", "(a|ab)(c|bcd)?", "[a-c]*?$", "(?:a|b)*", "x[^y]z|abc", "\\babc\\b", "(?m)^c", "\u00E9|.\\C", "", "(a*)*b"};
+        String[] subjects = {"abcd", "abc", "", "\n\u00E9", "ab\ncd", "a", "xaz", "bbbbbbbbbbbbbbbbbbbbbbbbbbbbbbbbbbbbbbbb", "\u20AC"};
+        for (String first : patterns) {
+            for (String second : patterns) {
+                Works works = new Works();
+                works.compile(0, 0, first);
+                works.subject(subjects[Math.abs(first.hashCode() % subjects.length)]);
+                everything(works);
+                works.compile(0, 0, second);
+                String subject = subjects[Math.abs((first + second).hashCode() % subjects.length)];
+                works.subject(subject);
+                Works fresh = new Works();
+                fresh.compile(0, 0, second);
+                fresh.subject(subject);
+                Works.same(second + " behind " + first + " on " + subject, everything(works), everything(fresh));
+            }
+        }
+    }
+
+    private static String everything(Works works) {
+        StringBuilder all = new StringBuilder();
+        for (int how = 0; how < 3; how++) {
+            for (int machine = 0; machine < 5; machine++) {
+                all.append(works.match(0, how, machine, 0)).append('/');
+            }
+            all.append(works.it.which(1, how == 1)).append('/');
+        }
+        return all.append(works.it.all(0)).append('/').append(works.it.split(0)).toString();
     }
 
     /** As many matches as there can be, as long as they can be. */

@@ -282,6 +282,38 @@ public final class EdgesOfPatternsTest {
         Works.matchesWhole("(?:a.)", 5, "A\n", true);
         Works.matches("(?-U)(a*)", 8, "aa", 0, 0, "0-2 0-2");
         Works.matches("(?s-U).(a*)", 8, "\naa", 0, 0, "0-3 1-3");
+        for (int before : new int[] {0, 15, 5, 10}) {
+            for (int on = 0; on < 16; on++) {
+                for (int off = 0; off < 16; off++) {
+                    String told = letters(on) + (off == 0 ? "" : "-" + letters(off));
+                    flagsAre("(?" + told + ")", "", before, (before | on) & ~off);
+                    flagsAre("(?" + told + ":", ")", before, (before | on) & ~off);
+                }
+            }
+        }
+    }
+
+    private static String letters(int flags) {
+        StringBuilder all = new StringBuilder();
+        for (int i = 0; i < 4; i++) {
+            all.append((flags >> i & 1) == 1 ? "" + "imsU".charAt(i) : "");
+        }
+        return all.toString();
+    }
+
+    /** What is on between a beginning and an end of a pattern, by what i, m, s and U make of it. */
+    private static void flagsAre(String begin, String end, int before, int due) {
+        Works works = new Works();
+        String[] probes = {"a", "^b", ".", "b*"};
+        for (int slot = 0; slot < 4; slot++) {
+            works.compile(slot, before, begin + probes[slot] + end);
+        }
+        works.subject("A\nbb");
+        int got = works.it.match(0, 1, 0, 0) == 1 ? 1 : 0;
+        got |= works.it.match(1, 1, 0, 2) == 3 ? 2 : 0;
+        got |= works.it.match(2, 1, 0, 1) == 2 ? 4 : 0;
+        got |= works.it.match(3, 1, 0, 2) == 2 ? 8 : 0;
+        Works.same("flags " + before + " and " + begin, got, due);
     }
 
     private static void reachOfFlags() {
@@ -476,6 +508,16 @@ public final class EdgesOfPatternsTest {
         set("[a[]", "91 97");
         set("[^\\n]", "0-9 11-" + FAR);
         set("[^a]", "0-96 98-" + FAR);
+        Works.takes("[a][b]", "ab");
+        Works.takesNot("[a][b]", "aa");
+        Works.takes("\\d[b]\\s[^c]", "1b d");
+        Works.takesNot("\\d[b]", "11");
+        Works.takesNot("[b]\\d", "bb");
+        Works.size("[a][b]", 0, 12);
+        Works.size("[a]\\d[^c]", 0, 26);
+        Works.same("all but the last", Works.taken("[^\\x{10FFFF}]", 0, 1114100, 1114111), "1114100-1114110");
+        Works.same("the last alone", Works.taken("[^\\x{0}-\\x{10FFFE}]", 0, 1114100, 1114111), "1114111");
+        Works.same("the first alone", Works.taken("[^\\x{1}-\\x{10FFFF}]", 0, 0, 200), "0");
         Works.sentence("] as the first item is itself, behind [^ too");
         set("[]]", "93");
         set("[]a]", "93 97");
