@@ -876,9 +876,10 @@ public final class EdgesOfCallsTest {
         works.compile(0, 0, "(?:a|b)*a(?:a|b){7}$");
         works.compile(1, 0, "(a|b)*?a(a|b){3}\\b");
         works.compile(2, 0, "(?:a|b)*b(?:a|b){6}c");
-        works.subject("abbabaaabbbababbbabaabbbbaabbabab".repeat(10));
+        works.compile(3, 0, "\\C*a\\C{100}\\C{100}\\C{100}c");
+        works.subject(scattered(600));
         StringBuilder told = new StringBuilder();
-        for (int slot = 0; slot < 3; slot++) {
+        for (int slot = 0; slot < 4; slot++) {
             String first = works.match(slot, 0, 2, 0);
             told.append(first);
             for (int machine = 0; machine < 5; machine++) {
@@ -886,8 +887,19 @@ public final class EdgesOfCallsTest {
             }
             Works.same("whole with " + states, works.it.match(slot, 2, 4, 0), works.it.match(slot, 2, 1, 0));
         }
-        told.append(' ').append(works.it.which(7, false)).append(' ').append(works.it.which(7, true));
+        told.append(' ').append(works.it.which(15, false)).append(' ').append(works.it.which(15, true));
         return told.toString();
+    }
+
+    /** Many a and b, in an order that does not come again, so that a great many states are needed. */
+    private static String scattered(int length) {
+        StringBuilder text = new StringBuilder();
+        int seed = 7;
+        for (int i = 0; i < length; i++) {
+            seed = seed * 1103515245 + 12345;
+            text.append((seed >> 16 & 1) == 0 ? 'a' : 'b');
+        }
+        return text.toString();
     }
 
     private static void over() {

@@ -72,6 +72,18 @@ public final class EdgesOfMatchesTest {
         Works.finds("(|a)b", "ab", "0-2 0-1");
         Works.finds("(a)|(a)", "a", "0-1 0-1 -");
         Works.finds("x|(b)|(a)|(ab)", "ab", "0-1 - 0-1 -");
+        for (int how = 0; how < 3; how++) {
+            Works.matches("(\\C)|(a)", 0, "a", how, 0, "0-1 0-1 -");
+            Works.matches("(a)|(\\C)", 0, "a", how, 0, "0-1 0-1 -");
+            Works.matches("(?:x|(\\C))|(a)", 0, "a", how, 0, "0-1 0-1 -");
+            Works.matches("([a-c])|([b-d])", 0, "b", how, 0, "0-1 0-1 -");
+            Works.matches("([b-d])|([a-c])", 0, "c", how, 0, "0-1 0-1 -");
+            Works.matches("([ae])|([b-f])", 0, "e", how, 0, "0-1 0-1 -");
+            Works.matches("([a-f])|(c)", 0, "c", how, 0, "0-1 0-1 -");
+            Works.matches("(c)|([^a])", 0, "c", how, 0, "0-1 0-1 -");
+            Works.matches("x(?:(a)|(a))", 0, "xa", how, 0, "0-2 1-2 -");
+            Works.matches("(?:(a)|(b))c", 0, "bc", how, 0, "0-2 - 0-1");
+        }
     }
 
     private static void counts() {
@@ -124,6 +136,13 @@ public final class EdgesOfMatchesTest {
         Works.finds("(?:(a*)(b*))*", "abab", "0-4 2-3 3-4");
         Works.finds("(?:(a*)|(b*))*", "ab", "0-2 0-1 1-2");
         Works.finds("(?:()|a)*", "aa", "0-2 -");
+        Works.matches("(?:(?:\n|^)a??)*", 2, "\na", SEARCH, 0, "0-2");
+        Works.matches("(?:(?:a|$)\n??)*", 2, "a\n", SEARCH, 0, "0-2");
+        Works.matches("(?:(?:a|\\b) ??)*", 0, "a ", SEARCH, 0, "0-2");
+        Works.matches("(?:(?:a|\\B)b??)*", 0, "ab", SEARCH, 0, "0-2");
+        Works.matches("(?:(?:a|)b??)*", 0, "ab", SEARCH, 0, "0-2");
+        Works.matches("(?:(?:a|())b??)*", 0, "ab", SEARCH, 0, "0-2 1-1");
+        Works.matches("(?:(?:a|c*)b??)*", 0, "ab", SEARCH, 0, "0-2");
     }
 
     private static void spans() {
@@ -137,6 +156,11 @@ public final class EdgesOfMatchesTest {
         Works.finds("()()()()()()()()()", "", "0-0 0-0 0-0 0-0 0-0 0-0 0-0 0-0 0-0 0-0");
         Works.finds("(a)(b)(c)(d)(e)(f)(g)(h)(i)", "abcdefghi", "0-9 0-1 1-2 2-3 3-4 4-5 5-6 6-7 7-8 8-9");
         Works.finds("(((((((((a)))))))))", "xa", "1-2 1-2 1-2 1-2 1-2 1-2 1-2 1-2 1-2 1-2");
+        String deep = "(?:".repeat(21) + "(".repeat(9);
+        Works.finds(deep + "a" + ")".repeat(30), "xa", "1-2 1-2 1-2 1-2 1-2 1-2 1-2 1-2 1-2 1-2");
+        Works.finds("(".repeat(9) + "(?:".repeat(21) + "a|b" + ")".repeat(30), "xb", "1-2 1-2 1-2 1-2 1-2 1-2 1-2 1-2 1-2 1-2");
+        Works.finds("(?:".repeat(29) + "(a)" + "*)".repeat(29), "aab", "0-2 1-2");
+        Works.finds("(?:".repeat(29) + "(a)" + "?)".repeat(29), "aab", "0-1 0-1");
     }
 
     private static void search() {
@@ -279,6 +303,25 @@ public final class EdgesOfMatchesTest {
                 fresh.subject(subject);
                 Works.same(second + " behind " + first + " on " + subject, everything(works), everything(fresh));
             }
+        }
+        Works works = new Works();
+        for (int i = 0; i < 40; i++) {
+            works.compile(0, 0, "a{" + (60 + i) + "}[bc]{3}(?:)");
+        }
+        works.subject("a".repeat(99) + "bcb");
+        for (int machine = 0; machine < 5; machine++) {
+            Works.same("the fortieth pattern of a slot", works.it.match(0, 2, machine, 0), 102);
+        }
+        Works minds = new Works();
+        minds.compile(0, 0, "abcdefgh");
+        minds.subject("xa");
+        minds.it.match(0, 1, 3, 0);
+        for (String pattern : new String[] {"x(?:(a)|([a-c]))", "(?:x(a)|x(a))", "xa", "x(?:(a)|(a))", "(x)(?:(a)|(\\C))"}) {
+            minds.compile(0, 0, pattern);
+            Works fresh = new Works();
+            fresh.compile(0, 0, pattern);
+            fresh.subject("xa");
+            Works.same(pattern + " behind others", minds.match(0, 2, 3, 0), fresh.match(0, 2, 2, 0));
         }
     }
 

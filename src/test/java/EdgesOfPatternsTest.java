@@ -25,6 +25,7 @@ public final class EdgesOfPatternsTest {
         anyByte();
         otherEscapes();
         classes();
+        manyRanges();
         ranges();
         namedKinds();
         alike();
@@ -539,6 +540,38 @@ public final class EdgesOfPatternsTest {
         set("[\\x41\\x{e9}\\n\\.]", "10 46 65 233");
         set("[\u0000\u0001]", "0-1");
         set("[\u00E9\u20AC]", "233");
+    }
+
+    /** As many ranges as a pattern may have, and about as many as the machines can tell apart. */
+    private static void manyRanges() {
+        Works.sentence("of a class 2 and 4 for each range of it: SIZE above 400");
+        StringBuilder odd = new StringBuilder();
+        for (int code = 257; code < 257 + 2 * 100; code += 2) {
+            odd.append((char) code);
+        }
+        Works.size("[" + odd.substring(0, 99) + "]", 0, 398);
+        Works.reads("[" + odd + "]", "fault 14 at -1");
+        for (int count : new int[] {99, 98, 60, 58, 57, 56, 55, 54, 53, 52, 51, 50, 49}) {
+            String pattern = "[" + odd.substring(0, count) + "]";
+            int last = 257 + 2 * (count - 1);
+            Works.same("the first of " + count, Works.taken(pattern, 0, 250, 262), "257 259 261");
+            Works.same("the last of " + count, Works.taken(pattern, 0, last - 5, last + 5), (last - 4) + " " + (last - 2) + " " + last);
+            Works works = new Works();
+            works.compile(0, 0, pattern);
+            for (int code = last - 20; code < last + 20; code++) {
+                works.subject("" + (char) code);
+                boolean due = code % 2 == 1 && code <= last;
+                Works.same(code + " of " + count, works.it.which(1, true), due ? 1 : 0);
+                Works.same(code + " of " + count, works.it.which(1, false), due ? 1 : 0);
+                Works.same(code + " of " + count, works.it.match(0, 0, 4, 0), due ? 2 : -1);
+            }
+        }
+        StringBuilder plain = new StringBuilder();
+        for (int code = 257; code < 257 + 2 * 60; code += 2) {
+            plain.append((char) code);
+        }
+        Works.takes(plain.toString(), plain.toString());
+        Works.takesNot(plain.toString(), plain.toString().replace((char) 375, (char) 374));
     }
 
     private static void ranges() {
