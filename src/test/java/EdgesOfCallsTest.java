@@ -35,6 +35,7 @@ public final class EdgesOfCallsTest {
         keep();
         over();
         manyObjects();
+        lastCalls();
         Works.finish("EdgesOfCallsTest");
     }
 
@@ -625,22 +626,22 @@ public final class EdgesOfCallsTest {
             Works.same("the output stays", works.output(4), "xaay");
         }
         Works.sentence("Promise 13: or more than 6000 bytes would come (the output stays)");
-        tooLong("a", 0, "a".repeat(2000), "abc", "abcd", "abc".repeat(2000));
-        tooLong("a", 0, "a".repeat(2000), "$0$0$0", "$0$0$0$0", "a".repeat(6000));
-        tooLong("(a*)", 0, "a".repeat(2000), "$0$1$0", "$0$0$1.", "a".repeat(6000));
-        tooLong("a*", 0, "a".repeat(2000), "$0$0$0", ".$0$0$0", "a".repeat(6000));
-        tooLong("(?P<n>a*)", 0, "a".repeat(2000), "${n}$1$0", "$0$$$0${n}", "a".repeat(6000));
-        tooLong("", 0, "a".repeat(352), "$0" + "x".repeat(16), "x".repeat(17), "x".repeat(16) + ("a" + "x".repeat(16)).repeat(352));
-        tooLong("a{100}", 0, "a".repeat(1000), "x".repeat(600), "x".repeat(601), "x".repeat(6000));
-        tooLong("a{100}", 0, "a".repeat(900) + "b".repeat(600), "x".repeat(600), "x".repeat(601), "x".repeat(5400) + "b".repeat(600));
-        tooLong("a{100}", 0, "b".repeat(600) + "a".repeat(900), "x".repeat(600), "x".repeat(601), "b".repeat(600) + "x".repeat(5400));
-        tooLong("^a{5}$|x", 0, "a".repeat(5), "$0" + "y".repeat(1990), "$", "a".repeat(5) + "y".repeat(1990));
+        tooLong("a", "a".repeat(2000), "abc", "abcd", "abc".repeat(2000));
+        tooLong("a", "a".repeat(2000), "$0$0$0", "$0$0$0$0", "a".repeat(6000));
+        tooLong("(a*)", "a".repeat(2000), "$0$1$0", "$0$0$1.", "a".repeat(6000));
+        tooLong("a*", "a".repeat(2000), "$0$0$0", ".$0$0$0", "a".repeat(6000));
+        tooLong("(?P<n>a*)", "a".repeat(2000), "${n}$1$0", "$0$$$0${n}", "a".repeat(6000));
+        tooLong("", "a".repeat(352), "$0" + "x".repeat(16), "x".repeat(17), "x".repeat(16) + ("a" + "x".repeat(16)).repeat(352));
+        tooLong("a{100}", "a".repeat(1000), "x".repeat(600), "x".repeat(601), "x".repeat(6000));
+        tooLong("a{100}", "a".repeat(900) + "b".repeat(600), "x".repeat(600), "x".repeat(601), "x".repeat(5400) + "b".repeat(600));
+        tooLong("a{100}", "b".repeat(600) + "a".repeat(900), "x".repeat(600), "x".repeat(601), "b".repeat(600) + "x".repeat(5400));
+        tooLong("^a{5}$|x", "a".repeat(5), "$0" + "y".repeat(1990), "$", "a".repeat(5) + "y".repeat(1990));
     }
 
     /** The first template makes the longest output that may be; the second is refused, and that output stays. */
-    private static void tooLong(String pattern, int flags, String subject, String fits, String refused, String due) {
+    private static void tooLong(String pattern, String subject, String fits, String refused, String due) {
         Works works = new Works();
-        works.compile(0, flags, pattern);
+        works.compile(0, 0, pattern);
         works.subject(subject);
         Works.same("the length", works.replaceLength(0, fits), "" + due.length());
         Works.same("the output", works.outputLike(due), due);
@@ -953,5 +954,19 @@ public final class EdgesOfCallsTest {
         Works.same("the other", Arrays.toString(got), Arrays.toString(due));
         two.it.end(1);
         Works.same("its bytes", two.tapeLike("\0"), "\0");
+    }
+
+    private static void lastCalls() {
+        Works.sentence("An object is used for at most 512 calls after it has been made");
+        Works works = new Works();
+        works.compile(0, 0, "(a+)b?");
+        works.subject("xaab");
+        for (int i = 0; works.it.left() > 4; i++) {
+            works.it.match(0, i % 3, i % 5, i % 5);
+        }
+        Works.same("call 509", works.it.match(0, 0, 4, 0), 4);
+        Works.same("call 510", works.it.group(1, 1), 3);
+        Works.same("call 511", works.it.all(0), 1);
+        Works.same("call 512", works.it.found(0, 0), 1);
     }
 }
