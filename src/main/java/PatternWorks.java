@@ -1239,7 +1239,6 @@ public final class PatternWorks {
         private final int[] next = new int[STATE_LIMIT];
         private final int[] other = new int[STATE_LIMIT];
         private int count;
-        private int takers;
         private int first;
         private boolean looksAround;
         private int[] ranges = new int[32];
@@ -1265,7 +1264,6 @@ public final class PatternWorks {
                 System.arraycopy(reader.text.bytes, reader.nameAt[k], names, k * NAME_LIMIT, nameLength[k]);
             }
             count = 0;
-            takers = 0;
             rangesUsed = 0;
             looksAround = false;
             add(DEAD_END, 0, 0);
@@ -1334,7 +1332,6 @@ public final class PatternWorks {
             kinds[count] = kind;
             next[count] = nextState;
             other[count] = otherValue;
-            takers += kind <= ANY_BYTE ? 1 : 0;
             looksAround |= kind == ASSERTION;
             count++;
             return count - 1;
@@ -1503,6 +1500,11 @@ public final class PatternWorks {
 
     /** Goes one way after the other and marks what was tried at each place, so that nothing is tried twice. */
     private static final class Marks {
+        /** A bit for each state at each place of the longest subject. */
+        private static final int MARK_LIMIT = (STATE_LIMIT + 31 >> 5) * (TAPE_LIMIT + 1);
+        private static final int STACK_LIMIT = STATE_LIMIT * (TAPE_LIMIT + 1) + 1;
+        private static final int STACK_LEAP = 8;
+
         private int[] spans = new int[SPAN_LIMIT];
         private final int[] work = new int[SPAN_LIMIT];
         private int[] marks = new int[64];
@@ -1527,7 +1529,7 @@ public final class PatternWorks {
             dirtyFrom = from;
             int need = (subject.length + 1) * words;
             if (need > marks.length) {
-                marks = new int[Math.max(need, 2 * marks.length)];
+                marks = new int[Math.max(need, Math.min(MARK_LIMIT, 2 * marks.length))];
             }
         }
 
@@ -1606,14 +1608,18 @@ public final class PatternWorks {
             found = true;
         }
 
-        /** Each mark brings one entry at most, so the stack grows no longer than the marks are many. */
+        /**
+         * Each mark brings one entry at most, so no stack is longer than the limit. It grows by leaps, whatever
+         * is at hand: so it is made anew a few times at most, even where each pattern needs a little more.
+         */
         private void push(int entry) {
-            if (depth >= stack.length) {
-                int most = program.count * (subject.length + 1) + 1;
-                stack = Arrays.copyOf(stack, Math.max(depth + 1, Math.min(most, 2 * stack.length)));
+            if (depth >= stack.length && stack.length < STACK_LIMIT) {
+                stack = Arrays.copyOf(stack, Math.min(STACK_LIMIT, STACK_LEAP * stack.length));
             }
-            stack[depth] = entry;
-            depth++;
+            if (depth < stack.length) {
+                stack[depth] = entry;
+                depth++;
+            }
         }
 
         /** Marks a state at a place; false if it is marked already. */
@@ -1633,6 +1639,9 @@ public final class PatternWorks {
 
     /** Runs all ways side by side, a row of threads for each place, those that come first in order ahead. */
     private static final class Threads {
+        /** What takes bytes has a size of 1 at least, and may be there once more, waiting; and there is the arrival. */
+        private static final int ROW_LIMIT = 2 * SIZE_LIMIT + 1;
+
         private int[] spans = new int[SPAN_LIMIT];
         private final int[] work = new int[SPAN_LIMIT];
         private int[] now = new int[0];
@@ -1676,16 +1685,11 @@ public final class PatternWorks {
         }
 
         private void makeRows() {
-            int most = 2 * program.takers + 1;
-            if (now.length < most) {
-                now = new int[most];
-                then = new int[most];
-            }
-            if (nowSpans.length < most * program.width) {
-                nowSpans = new int[most * program.width];
-                thenSpans = new int[most * program.width];
-            }
             if (seen.length == 0) {
+                now = new int[ROW_LIMIT];
+                then = new int[ROW_LIMIT];
+                nowSpans = new int[ROW_LIMIT * SPAN_LIMIT];
+                thenSpans = new int[ROW_LIMIT * SPAN_LIMIT];
                 seen = new int[2 * WAITING];
                 stack = new int[STATE_LIMIT + 1];
             }
@@ -2055,10 +2059,7 @@ public final class PatternWorks {
                 seeds = new int[2 * WAITING];
                 seen = new int[3 * WAITING];
                 stack = new int[STATE_LIMIT + 1];
-            }
-            int need = KEPT_LIMIT * (cutCount + FIRST_SIGN);
-            if (edges.length < need) {
-                edges = new int[need];
+                edges = new int[KEPT_LIMIT * (CUT_LIMIT + FIRST_SIGN)];
             }
             return true;
         }

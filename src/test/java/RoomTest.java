@@ -2,14 +2,24 @@ import java.lang.management.ManagementFactory;
 
 /** What an object makes in its 512 calls stays far below the room that all calls of a run share. */
 public final class RoomTest {
-    /** 7.3 million elements of four bytes; rows and objects have heads besides, so this is on the safe side. */
-    private static final long ROOM = 4L * 7300000;
+    /**
+     * Half of the 7.3 million elements of four bytes, so that what is made stays well below; what the test itself
+     * makes counts, too, and so do the heads of rows and objects, so this is on the safe side.
+     */
+    private static final long ROOM = 4L * 7300000 / 2;
 
     public static void main(String[] args) {
         measure("small calls", RoomTest::smallCalls);
         measure("dear calls", RoomTest::dearCalls);
         measure("many patterns", RoomTest::manyPatterns);
         measure("the longest stack", RoomTest::longestStack);
+        measure("patterns that grow, from 86 on", () -> growingRepeats(86, 149));
+        measure("patterns that grow, from 1 on", () -> growingRepeats(1, 489));
+        measure("stacks that grow by assertions", RoomTest::growingAssertions);
+        measure("stacks that grow with the subject", RoomTest::growingSubjects);
+        measure("rows of threads that grow", RoomTest::growingThreads);
+        measure("cuts that grow", RoomTest::growingCuts);
+        measure("one pattern of every byte", RoomTest::longPatterns);
         Works.finish("RoomTest");
     }
 
@@ -60,6 +70,83 @@ public final class RoomTest {
             works.it.all(0);
             works.it.which(1, true);
         }
+    }
+
+    /** An object whose subject is so many twenties of bytes 0, which need not be fed. */
+    private static Works zeros(int twenties) {
+        Works works = new Works();
+        for (int i = 0; i < twenties; i++) {
+            works.it.end(20);
+        }
+        Works.same("the subject's length", works.it.subject(), 20 * twenties);
+        return works;
+    }
+
+    /** As an issue told it: each pattern needs a little more of the stack than the one before. */
+    private static void growingRepeats(int first, int calls) {
+        Works works = zeros(100);
+        for (int n = first; n <= 97; n++) {
+            Works.same("groups at " + n, works.compile(0, 0, "(((?:){0," + n + "}){4}\0)*"), "2");
+            Works.same("the match at " + n, works.it.match(0, 0, 0, 0), 2000);
+        }
+        Works.same("calls", Counted.CALLS - works.it.left(), calls);
+    }
+
+    /** Each pattern needs the stack both before and behind the first byte of the x that goes round. */
+    private static void growingAssertions() {
+        Works works = zeros(100);
+        for (int n = 36; n <= 97; n++) {
+            Works.same("groups at " + n, works.compile(0, 0, "(\\B{0," + n + "}\0??\\B{0," + n + "})*"), "1");
+            Works.same("the match at " + n, works.it.match(0, 2, 0, 0), 2000);
+        }
+        works.compile(0, 0, "(((?:){0,97}){4}\0)*");
+        Works.same("all matches", works.it.all(0), 1);
+    }
+
+    private static void growingSubjects() {
+        Works works = new Works();
+        works.compile(0, 0, "(((?:){0,97}){4}\0)*");
+        for (int twenties = 1; works.it.left() > twenties + 8; twenties++) {
+            for (int i = 0; i < twenties; i++) {
+                works.it.end(20);
+            }
+            works.it.subject();
+            for (int machine = 0; machine < 5; machine++) {
+                Works.same("the match of " + twenties, works.it.match(0, 0, machine, 0), 20 * twenties);
+            }
+        }
+    }
+
+    private static void growingThreads() {
+        Works works = new Works();
+        works.subject("b".repeat(20));
+        for (int n = 1; works.it.left() > 8; n++) {
+            String pattern = "()".repeat(1 + n / 10 % 9) + "[ab]{" + (n % 60 + 1) + "}?";
+            works.compile(0, 0, pattern);
+            Works.same("by the threads " + n, works.it.match(0, 0, 1, 0), n % 60 + 1 <= 20 ? n % 60 + 1 : -1);
+        }
+    }
+
+    private static void growingCuts() {
+        Works works = new Works();
+        works.subject("b".repeat(20));
+        for (int n = 1; works.it.left() > 25; n++) {
+            StringBuilder pattern = new StringBuilder();
+            for (int i = 0; i <= n % 50; i++) {
+                pattern.append((char) (200 + 2 * i)).append('|');
+            }
+            works.compile(0, 0, pattern + "b$");
+            Works.same("by the states " + n, works.it.match(0, 0, 4, 0), 20);
+            Works.same("which " + n, works.it.which(1, false), 1);
+        }
+    }
+
+    /** Characters that have others alike make most: a part and rows of ranges for each byte. */
+    private static void longPatterns() {
+        Works works = new Works();
+        Works.same("a pattern of 2000", works.compile(0, 1, "k".repeat(2000)), "fault 14 at -1");
+        Works.same("another", works.compile(0, 1, "s|".repeat(1000)), "fault 14 at -1");
+        Works.same("a third", works.compile(0, 1, "[^k]".repeat(250)), "fault 14 at -1");
     }
 
     private static void manyPatterns() {
