@@ -40,6 +40,8 @@ public final class FaceTest {
                 String due = REFUSING.contains(method.getName()) ? "[class java.lang.IllegalArgumentException]" : "[]";
                 Works.same(method.getName() + " throws", Arrays.toString(method.getExceptionTypes()), due);
                 Works.same(method.getName() + " is public", method.getModifiers(), Modifier.PUBLIC);
+            } else {
+                Works.same(method + " bears no name of the face", namesOfTheFace().contains(method.getName()) ? 1 : 0, 0);
             }
         }
         Works.same("the methods", methods.toString(), Arrays.asList(FACE).toString());
@@ -55,11 +57,16 @@ public final class FaceTest {
         }
     }
 
-    private static void classesInside() {
-        Set<String> face = new HashSet<>();
+    private static Set<String> namesOfTheFace() {
+        Set<String> names = new HashSet<>();
         for (String method : FACE) {
-            face.add(method.substring(0, method.indexOf('(')));
+            names.add(method.substring(0, method.indexOf('(')));
         }
+        return names;
+    }
+
+    private static void classesInside() {
+        Set<String> face = namesOfTheFace();
         Works.same("at most some twelve classes", PatternWorks.class.getDeclaredClasses().length <= 14 ? 1 : 0, 1);
         for (Class<?> inside : PatternWorks.class.getDeclaredClasses()) {
             Works.same(inside + " is static", Modifier.isStatic(inside.getModifiers()) ? 1 : 0, 1);

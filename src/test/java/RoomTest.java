@@ -3,10 +3,10 @@ import java.lang.management.ManagementFactory;
 /** What an object makes in its 512 calls stays far below the room that all calls of a run share. */
 public final class RoomTest {
     /**
-     * Half of the 7.3 million elements of four bytes, so that what is made stays well below; what the test itself
-     * makes counts, too, and so do the heads of rows and objects, so this is on the safe side.
+     * In so many bytes there are neither 600,000 objects (of sixteen at least) nor a third of 7.3 million elements
+     * (of four at least); what the test itself makes counts, too, so this is on the safe side.
      */
-    private static final long ROOM = 4L * 7300000 / 2;
+    private static final long ROOM = 16L * 600000;
 
     public static void main(String[] args) {
         measure("small calls", RoomTest::smallCalls);
@@ -19,7 +19,8 @@ public final class RoomTest {
         measure("stacks that grow with the subject", RoomTest::growingSubjects);
         measure("rows of threads that grow", RoomTest::growingThreads);
         measure("cuts that grow", RoomTest::growingCuts);
-        measure("one pattern of every byte", RoomTest::longPatterns);
+        measure("long patterns", RoomTest::longPatterns);
+        measure("a long stack and long patterns", RoomTest::stackAndPatterns);
         Works.finish("RoomTest");
     }
 
@@ -147,6 +148,20 @@ public final class RoomTest {
         Works.same("a pattern of 2000", works.compile(0, 1, "k".repeat(2000)), "fault 14 at -1");
         Works.same("another", works.compile(0, 1, "s|".repeat(1000)), "fault 14 at -1");
         Works.same("a third", works.compile(0, 1, "[^k]".repeat(250)), "fault 14 at -1");
+    }
+
+    private static void stackAndPatterns() {
+        Works works = zeros(100);
+        works.compile(0, 0, "(((?:){0,97}){4}\0)*");
+        for (int machine = 0; machine < 5; machine++) {
+            Works.same("by " + machine, works.it.match(0, 0, machine, 0), 2000);
+        }
+        Works.same("all", works.it.all(0), 1);
+        Works.same("split", works.it.split(0), 2);
+        Works.same("which", works.it.which(1, true), 1);
+        for (int i = 0; works.it.left() > 60; i++) {
+            Works.same("a long pattern", works.compile(i % 6, 1, "[^ks]k\\PL".repeat(50)), "fault 14 at -1");
+        }
     }
 
     private static void manyPatterns() {
