@@ -7,7 +7,8 @@ import java.util.regex.Pattern;
 
 /** What README.md shows of the class is so: each call of its Java lines gives the answer that stands behind it. */
 public final class ReadmeTest {
-    private static final Pattern CALL = Pattern.compile("works\\.(\\w+)\\((.*)\\); +// (-?\\d+|IllegalArgumentException)?.*");
+    private static final Pattern CALL = Pattern.compile(
+        "works\\.(\\w+)\\((.*)\\); +// (?:(-?\\d+|IllegalArgumentException)(?:: .*)?|.*)");
 
     public static void main(String[] args) throws Exception {
         PatternWorks works = new PatternWorks();
@@ -17,7 +18,7 @@ public final class ReadmeTest {
             if (call.matches()) {
                 calls++;
                 String got = answer(works, call.group(1), call.group(2).isEmpty() ? new String[0] : call.group(2).split(", "));
-                Works.same(line, got, call.group(1).equals("feed") ? "null" : call.group(3));
+                Works.same(line, got, "" + call.group(3));
             } else {
                 Works.same(line + " is no call without an answer", line.startsWith("works.") ? 1 : 0, 0);
             }
