@@ -1997,16 +1997,16 @@ public final class PatternWorks {
         private boolean roaming;
         private final int[] cuts = new int[CUT_LIMIT];
         private int cutCount;
-        private int[] edges = new int[0];
-        private int[] pool = new int[0];
+        private final int[] edges = new int[KEPT_LIMIT * (CUT_LIMIT + FIRST_SIGN)];
+        private final int[] pool = new int[POOL_LIMIT];
         private final int[] begins = new int[KEPT_LIMIT + 1];
         private final int[] behind = new int[KEPT_LIMIT];
         private int count;
-        private int[] seeds = new int[0];
+        private final int[] seeds = new int[2 * WAITING];
         private int seedCount;
-        private int[] seen = new int[0];
+        private final int[] seen = new int[3 * WAITING];
         private int stamp;
-        private int[] stack = new int[0];
+        private final int[] stack = new int[STATE_LIMIT + 1];
         private boolean arrived;
         private long steps;
 
@@ -2053,13 +2053,6 @@ public final class PatternWorks {
             if (this.roaming != roaming) {
                 this.roaming = roaming;
                 count = 0;
-            }
-            if (pool.length == 0) {
-                pool = new int[POOL_LIMIT];
-                seeds = new int[2 * WAITING];
-                seen = new int[3 * WAITING];
-                stack = new int[STATE_LIMIT + 1];
-                edges = new int[KEPT_LIMIT * (CUT_LIMIT + FIRST_SIGN)];
             }
             return true;
         }

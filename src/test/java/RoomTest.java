@@ -1,4 +1,5 @@
 import java.lang.management.ManagementFactory;
+import java.util.function.ToIntFunction;
 
 /** What an object makes in its 512 calls stays far below the room that all calls of a run share. */
 public final class RoomTest {
@@ -7,6 +8,9 @@ public final class RoomTest {
      * (of four at least); what the test itself makes counts, too, so this is on the safe side.
      */
     private static final long ROOM = 16L * 600000;
+
+    /** 14,000 numbers of four bytes, as all rows of the program are: 7.3 million elements, parted among 512 calls. */
+    private static final long CALL_ROOM = 4L * 14000;
 
     public static void main(String[] args) {
         measure("small calls", RoomTest::smallCalls);
@@ -21,6 +25,8 @@ public final class RoomTest {
         measure("cuts that grow", RoomTest::growingCuts);
         measure("long patterns", RoomTest::longPatterns);
         measure("a long stack and long patterns", RoomTest::stackAndPatterns);
+        measureLast("the first which()", 1, works -> works.it.which(1, false));
+        measureLast("the first match() by the states", 0, works -> works.it.match(0, 0, 4, 0));
         Works.finish("RoomTest");
     }
 
@@ -35,6 +41,18 @@ public final class RoomTest {
         long bytes = made() - before;
         System.out.println(what + ": " + bytes + " bytes");
         Works.same(what + " stays within the room", bytes < ROOM ? 1 : 0, 1);
+    }
+
+    /** As issues told it: on a new object the empty pattern, and then a call whose machine was never used before. */
+    private static void measureLast(String what, int due, ToIntFunction<Works> call) {
+        Works works = new Works();
+        Works.same("the empty pattern", works.it.compile(0, 0), 0);
+        long before = made();
+        int answer = call.applyAsInt(works);
+        long bytes = made() - before;
+        System.out.println(what + ": " + bytes + " bytes");
+        Works.same(what + " answers", answer, due);
+        Works.same(what + " makes its part of the room at most", bytes < CALL_ROOM ? 1 : 0, 1);
     }
 
     private static void smallCalls() {
