@@ -1644,15 +1644,15 @@ public final class PatternWorks {
 
         private int[] spans = new int[SPAN_LIMIT];
         private final int[] work = new int[SPAN_LIMIT];
-        private int[] now = new int[0];
-        private int[] then = new int[0];
-        private int[] nowSpans = new int[0];
-        private int[] thenSpans = new int[0];
+        private int[] now = new int[ROW_LIMIT];
+        private int[] then = new int[ROW_LIMIT];
+        private int[] nowSpans = new int[ROW_LIMIT * SPAN_LIMIT];
+        private int[] thenSpans = new int[ROW_LIMIT * SPAN_LIMIT];
         private int nowCount;
         private int thenCount;
-        private int[] seen = new int[0];
+        private final int[] seen = new int[2 * WAITING];
         private int stamp;
-        private int[] stack = new int[0];
+        private final int[] stack = new int[STATE_LIMIT + 1];
         private boolean found;
         private Program program;
         private Subject subject;
@@ -1666,7 +1666,7 @@ public final class PatternWorks {
             this.how = how;
             this.spans = spans;
             firstOnly = how != WHOLE && !program.isOn(LONGEST);
-            makeRows();
+            renewStamp();
             found = false;
             thenCount = 0;
             for (int place = from; place <= subject.length; place++) {
@@ -1684,16 +1684,8 @@ public final class PatternWorks {
             return found ? spans[1] : NONE;
         }
 
-        private void makeRows() {
-            if (seen.length == 0) {
-                now = new int[ROW_LIMIT];
-                then = new int[ROW_LIMIT];
-                nowSpans = new int[ROW_LIMIT * SPAN_LIMIT];
-                thenSpans = new int[ROW_LIMIT * SPAN_LIMIT];
-                seen = new int[2 * WAITING];
-                stack = new int[STATE_LIMIT + 1];
-            }
-            // No run takes more stamps than there are places and a few.
+        /** Begins a run with a stamp that nothing bears; no run takes more of them than there are places and a few. */
+        private void renewStamp() {
             if (stamp > 2000000000) {
                 Arrays.fill(seen, 0);
                 stamp = 0;

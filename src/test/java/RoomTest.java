@@ -27,6 +27,7 @@ public final class RoomTest {
         measure("a long stack and long patterns", RoomTest::stackAndPatterns);
         measureLast("the first which()", 1, works -> works.it.which(1, false));
         measureLast("the first match() by the states", 0, works -> works.it.match(0, 0, 4, 0));
+        measureLast("the first match() by the threads", 0, works -> works.it.match(0, 0, 1, 0));
         Works.finish("RoomTest");
     }
 
